@@ -1,0 +1,215 @@
+import java.lang.reflect.InvocationTargetException;
+import java.lang.reflect.Method;
+import java.util.ArrayList;
+import java.util.Arrays;
+import java.util.Comparator;
+import java.util.List;
+import java.util.Random;
+
+/**
+ * Runs of 512 calls by seeds, each call also put to the Model: answers and exceptions must be the same, and what is
+ * told by the calls that only look must be the same behind calls that throw.
+ */
+final class RandomRunsTest {
+    private static final int CALLS = 512;
+    private static final int RUNS = 250;
+    private static final List<String> RARE = List.of("pass", "join", "change", "regime", "addModerator", "addBuyer");
+    private static final List<String> OFTEN = List.of("report", "decide", "view", "copy", "appeal", "reply", "edit");
+    private static final List<String> LOOKS = List.of("weight", "stateOf", "breaks", "pressure", "queued", "queueAt",
+            "next", "stands", "reach", "strikes", "isBanned", "jurorAt", "late", "lost", "isHidden", "score",
+            "machineWeight", "alike", "beside", "seen", "owed", "heat", "feedSize", "feedAt", "numberOf",
+            "standShare", "meanWeight", "isSound");
+
+    private final Random random;
+    private final ModHouse house = new ModHouse();
+    private final Model model = new Model();
+    private final List<Method> changes = new ArrayList<>();
+    private final List<Method> looks = new ArrayList<>();
+    private final int markRange;
+
+    private RandomRunsTest(long seed) {
+        random = new Random(seed);
+        markRange = seed % 3 == 0 ? 4 : seed % 3 == 1 ? 16 : 256;
+        Method[] face = ModHouse.class.getDeclaredMethods();
+        Arrays.sort(face, Comparator.comparing(Method::getName));
+        for (Method method : face) {
+            if (!java.lang.reflect.Modifier.isPublic(method.getModifiers())) {
+                continue;
+            }
+            if (LOOKS.contains(method.getName())) {
+                looks.add(method);
+                continue;
+            }
+            int times = RARE.contains(method.getName()) ? 1 : OFTEN.contains(method.getName()) ? 8 : 3;
+            for (int i = 0; i < times; i++) {
+                changes.add(method);
+            }
+        }
+    }
+
+    static void run(Check c) {
+        for (long seed = 0; seed < RUNS; seed++) {
+            String difference = new RandomRunsTest(seed).play();
+            c.is("run by seed " + seed, difference, "the same");
+        }
+    }
+
+    private String play() {
+        int accounts = 2 + random.nextInt(11);
+        for (int i = 0; i < accounts; i++) {
+            house.addAccount();
+            model.addAccount();
+        }
+        house.addModerator(255, 9);
+        model.addModerator(255, 9);
+        for (int i = accounts + 1; i < CALLS; i++) {
+            Method method = pick();
+            Object[] arguments = arguments(method);
+            String got = call(house, method, arguments);
+            String due = call(model, method, arguments);
+            if (!got.equals(due)) {
+                return "call " + i + ": " + method.getName() + Arrays.toString(arguments) + " answered " + got
+                        + ", the model " + due;
+            }
+            if (i % 16 == 0 || got.startsWith("throws") && i % 8 == 0) {
+                String told = compareAll();
+                if (told != null) {
+                    return "behind call " + i + " " + method.getName() + Arrays.toString(arguments) + ": " + told;
+                }
+            }
+        }
+        return "the same";
+    }
+
+    private Method pick() {
+        return random.nextInt(4) == 0 ? looks.get(random.nextInt(looks.size()))
+                : changes.get(random.nextInt(changes.size()));
+    }
+
+    /** All that can be told with one argument, or none, by both. */
+    private String compareAll() {
+        for (Method method : looks) {
+            int most = method.getParameterCount() == 0 ? 1 : 12;
+            for (int i = 0; i < most; i++) {
+                Object[] arguments = arguments(method);
+                if (method.getParameterCount() == 1) {
+                    arguments[0] = i < 10 ? i : random.nextInt(52) - 1;
+                }
+                String got = call(house, method, arguments);
+                String due = call(model, method, arguments);
+                if (!got.equals(due)) {
+                    return method.getName() + Arrays.toString(arguments) + " answered " + got + ", the model " + due;
+                }
+            }
+        }
+        return null;
+    }
+
+    private static String call(Object on, Method method, Object[] arguments) {
+        try {
+            Method same = on.getClass().getMethod(method.getName(), method.getParameterTypes());
+            return String.valueOf(same.invoke(on, arguments));
+        } catch (InvocationTargetException e) {
+            return "throws " + e.getCause().getClass().getName();
+        } catch (ReflectiveOperationException e) {
+            return "has no such call: " + e;
+        }
+    }
+
+    private Object[] arguments(Method method) {
+        Object[] values = new Object[method.getParameterCount()];
+        for (int i = 0; i < values.length; i++) {
+            Class<?> type = method.getParameterTypes()[i];
+            if (type == boolean.class) {
+                values[i] = random.nextInt(3) > 0;
+            } else if (type == char.class) {
+                String letters = method.getName().equals("numberOf") ? "dsobarwmtx" : "lnrlnrlnrx";
+                values[i] = letters.charAt(random.nextInt(letters.length()));
+            } else {
+                values[i] = number(method.getName(), method.getParameters()[i].getName());
+            }
+        }
+        return values;
+    }
+
+    private int number(String method, String parameter) {
+        if (random.nextInt(60) == 0) {
+            return random.nextInt(2) == 0 ? -1 : random.nextInt(300);
+        }
+        switch (parameter) {
+            case "account":
+            case "other":
+                return random.nextInt(12);
+            case "post":
+                return random.nextInt(1 + Math.min(50, posts()));
+            case "rule":
+                return random.nextInt(4) - (method.equals("decide") ? random.nextInt(2) : 0);
+            case "decision":
+                return random.nextInt(1 + Math.min(39, decisions()));
+            case "moderator":
+                return random.nextInt(3);
+            case "needs":
+                return 1 << random.nextInt(3);
+            case "excepts":
+                return random.nextInt(3) == 0 ? 1 << random.nextInt(8) : 0;
+            case "strikes":
+                return random.nextInt(8) == 0 ? 3 : random.nextInt(2);
+            case "marks":
+                return method.equals("setLikeness") ? random.nextInt(4) : random.nextInt(markRange);
+            case "sees":
+                return 255 - random.nextInt(4);
+            case "avoids":
+                return random.nextInt(8);
+            case "limit":
+                return 1 + random.nextInt(9);
+            case "land":
+                return random.nextInt(3);
+            case "people":
+                return 1 + random.nextInt(random.nextInt(5) == 0 ? 100000 : 30);
+            case "days":
+                return method.equals("pass") ? 1 + random.nextInt(random.nextInt(4) == 0 ? 60 : 5)
+                        : random.nextInt(31);
+            case "from":
+                return random.nextInt(100);
+            case "till":
+                return random.nextInt(400);
+            case "mark":
+                return random.nextInt(8);
+            case "score":
+                return random.nextInt(19) - 9;
+            case "threshold":
+                return random.nextInt(20) - 2;
+            default:
+                return random.nextInt(5);
+        }
+    }
+
+    private int posts() {
+        int count = 0;
+        while (count < 50 && answers(house, "stateOf", count)) {
+            count++;
+        }
+        return count;
+    }
+
+    private int decisions() {
+        int count = 0;
+        while (count < 40 && answers(house, "stands", count)) {
+            count++;
+        }
+        return count;
+    }
+
+    private static boolean answers(ModHouse house, String what, int number) {
+        try {
+            if (what.equals("stateOf")) {
+                house.stateOf(number);
+            } else {
+                house.stands(number);
+            }
+            return true;
+        } catch (IndexOutOfBoundsException e) {
+            return false;
+        }
+    }
+}
