@@ -11,6 +11,7 @@ final class AppealsTest {
         juries(c);
         jurorsWhoCanNotBeDrawn(c);
         juriesOfOnePersonEach(c);
+        juriesOfThose(c);
         votes(c);
     }
 
@@ -23,7 +24,9 @@ final class AppealsTest {
         c.noIndex("appeal(-1, 0)", () -> x.appeal(-1, 0));
         c.noIndex("appeal(0, 5)", () -> x.appeal(0, 5));
         c.noIndex("appeal(0, -1)", () -> x.appeal(0, -1));
-        c.notAllowed("appeal by one on none of whose posts it acts", () -> x.appeal(d, 3));
+        c.notAllowed("appeal by one without posts", () -> x.appeal(d, 3));
+        x.post(4, 1);
+        c.notAllowed("appeal by one on none of whose posts it acts", () -> x.appeal(d, 4));
         x.join(3, 1);
         x.pass(2);
         c.is("isBanned(3)", x.isBanned(3), true);
@@ -32,7 +35,6 @@ final class AppealsTest {
         c.is("stands as long as it is not heard", x.stands(d), true);
         x.hear(d, 1, false);
         c.notAllowed("appeal again when it was heard", () -> x.appeal(d, 0));
-        x.post(4, 0);
         x.report(2, 2, 0);
         int none = x.decide(0, 2, -1);
         c.notAllowed("appeal against one by none", () -> x.appeal(none, 4));
@@ -102,6 +104,17 @@ final class AppealsTest {
         c.is("nothing for a report by another rule", x.weight(3), 7);
         c.is("nothing for a report that was not done by it", x.weight(4), 10);
         c.is("5 less for the classifier", x.machineWeight(0), 7);
+        ModHouse z = Houses.ruled(4, 'l', 0);
+        z.post(3, 1);
+        z.report(0, 0, 0);
+        z.report(1, 0, 0);
+        z.report(2, 0, 0);
+        z.decide(0, 0, 0);
+        z.join(2, 0);
+        z.appeal(0, 3);
+        z.hear(0, 1, true);
+        c.is("5 less, once, not one behind the other", z.weight(0), 7);
+        c.is("5 less for the other person", z.weight(1), 7);
         ModHouse y = Houses.ruled(3, 'l', 0);
         for (int i = 0; i < 3; i++) {
             y.post(0, 2);
@@ -175,6 +188,18 @@ final class AppealsTest {
         c.is("jury of 2, 4 and 7: no lot was drawn ahead", x.jury(d), 4);
         c.is("jurorAt(1) of 2 and 7", x.jurorAt(d, 1), 2);
         c.is("jurorAt(2)", x.jurorAt(d, 2), 7);
+    }
+
+    private static void juriesOfThose(Check c) {
+        ModHouse x = Houses.ruled(5, 'l', 0);
+        x.post(4, 1);
+        x.post(0, 1);
+        x.post(1, 2);
+        int d = Houses.decided(x, 3, 0, 0);
+        x.appeal(d, 4);
+        c.is("jury of 0, 1 and 2, who have other posts", x.jury(d), 1);
+        c.is("jurorAt(1) of 0 and 2", x.jurorAt(d, 1), 0);
+        c.is("jurorAt(2)", x.jurorAt(d, 2), 2);
     }
 
     private static void votes(Check c) {

@@ -31,15 +31,21 @@ final class Check {
         judge(isSo, what);
     }
 
-    /** The very class is asked for, so that what the machine throws by itself is not taken for it. */
     void fails(String what, Class<? extends RuntimeException> due, Call call) {
         String got = "nothing";
         try {
             call.run();
         } catch (RuntimeException e) {
-            got = e.getClass().getName();
+            got = nameOf(e);
         }
         judge(got.equals(due.getName()), what + " threw " + got + ", due is " + due.getName());
+    }
+
+    /** Tells apart what the class throws and what the machine or the library throws in it, often of the same name. */
+    static String nameOf(Throwable thrown) {
+        StackTraceElement[] trace = thrown.getStackTrace();
+        boolean isOwn = trace.length > 0 && trace[0].getClassName().startsWith("Mod");
+        return isOwn ? thrown.getClass().getName() : thrown.getClass().getName() + " of the machine";
     }
 
     void noIndex(String what, Call call) {

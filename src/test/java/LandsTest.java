@@ -45,6 +45,8 @@ final class LandsTest {
         c.is("view of another post", x.view(1, 1, 10), 10);
         c.is("obey 2 days late", x.obey(1), 2);
         c.is("view in the other land", x.view(0, 2, 10), 0);
+        c.is("view in the first land still", x.view(0, 1, 10), 0);
+        c.is("view in the third land", x.view(0, 0, 10), 10);
         c.is("obey another order of the same land", x.obey(2), 0);
         c.notAllowed("obey again", () -> x.obey(0));
         c.noIndex("obey(3)", () -> x.obey(3));

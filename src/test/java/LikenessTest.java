@@ -66,7 +66,15 @@ final class LikenessTest {
         c.notAllowed("spread again to none", () -> x.spread(e));
         x.takeBack(e);
         c.notAllowed("spread of what was taken back", () -> x.spread(e));
-        c.noIndex("spread(3)", () -> x.spread(3));
+        x.edit(1, 128);
+        int f = Houses.decided(x, 3, 5, 0);
+        c.is("spread to none that breaks the rule", x.spread(f), 0);
+        ModHouse y = Houses.ruled(2, 'n', 0);
+        y.post(0, 1);
+        y.post(0, 1);
+        c.is("spread to the first post", y.spread(Houses.decided(y, 1, 1, 0)), 1);
+        c.is("stateOf(0)", y.stateOf(0), 'n');
+        c.noIndex("spread(4)", () -> x.spread(4));
         c.noIndex("spread(-1)", () -> x.spread(-1));
     }
 

@@ -66,15 +66,15 @@ public final class Model {
     private final List<Set<Integer>> persons = new ArrayList<>();
     private final List<Integer> weights = new ArrayList<>();
     private int accounts = 0;
-    private final List<Post> posts = new ArrayList<>();
+    final List<Post> posts = new ArrayList<>();
     private final List<TreeMap<Integer, Version>> rules = new ArrayList<>();
     private final List<int[]> scores = new ArrayList<>();
     private final int[] thresholds = {72, 72, 72, 72, 72, 72};
     private final int[] machines = {10, 10, 10, 10, 10, 10};
     private final List<Report> reports = new ArrayList<>();
     private final List<int[]> moderators = new ArrayList<>();
-    private final List<Decision> decisions = new ArrayList<>();
-    private final List<Order> orders = new ArrayList<>();
+    final List<Decision> decisions = new ArrayList<>();
+    final List<Order> orders = new ArrayList<>();
     private final List<Regime> regimes = new ArrayList<>();
     private final List<Integer> buyers = new ArrayList<>();
     private final List<Watched> log = new ArrayList<>();
@@ -236,7 +236,7 @@ public final class Model {
         return all;
     }
 
-    private List<Integer> queue() {
+    List<Integer> queue() {
         List<Integer> all = numbers();
         all.removeIf(i -> !waiting(i));
         Comparator<Integer> byHarm = Comparator.comparing(i -> -reports.stream()
@@ -436,7 +436,9 @@ public final class Model {
 
     public int next(int moderator) {
         index(out(moderator, moderators.size()));
-        return queue().stream().filter(i -> looks(moderator, i)).findFirst().orElseThrow(NoSuchElementException::new);
+        int first = queue().stream().filter(i -> looks(moderator, i)).findFirst().orElse(-1);
+        element(first < 0);
+        return first;
     }
 
     public int decide(int moderator, int post, int rule) {

@@ -51,6 +51,8 @@ final class NumbersTest {
         int d = Houses.decided(x, 2, 0, 0);
         int e = Houses.decided(x, 2, 1, 0);
         c.is("a, each once", x.numberOf(0, 'a'), 2);
+        x.addRule(1, 0, 'l', 0);
+        c.is("a of another rule", x.numberOf(1, 'a'), 0);
         x.spread(d);
         c.is("a with one by spreading", x.numberOf(0, 'a'), 3);
         x.takeBack(d);
@@ -137,10 +139,17 @@ final class NumbersTest {
         int d = Houses.decided(x, 1, 1, 0);
         c.is("standShare()", x.standShare(), 1.0f);
         Houses.decided(x, 1, 2, 0);
+        c.is("standShare() of 2", x.standShare(), 1.0f);
         x.post(0, 1);
         Houses.decided(x, 1, 3, 0);
         x.takeBack(d);
         c.is("standShare() of 2 in 3", x.standShare(), 2.0f / 3.0f);
+        ModHouse y = Houses.ruled(2, 'l', 0);
+        y.post(0, 1);
+        Houses.decided(y, 1, 0, 0);
+        c.is("standShare() of the first one", y.standShare(), 1.0f);
+        y.takeBack(0);
+        c.is("standShare() of none in 1", y.standShare(), 0.0f);
     }
 
     private static void means(Check c) {

@@ -12,9 +12,11 @@ import java.util.Random;
  */
 final class RandomRunsTest {
     private static final int CALLS = 512;
-    private static final int RUNS = 250;
-    private static final List<String> RARE = List.of("pass", "join", "change", "regime", "addModerator", "addBuyer");
-    private static final List<String> OFTEN = List.of("report", "decide", "view", "copy", "appeal", "reply", "edit");
+    private static final int RUNS = 150;
+    private static final List<String> RARE = List.of("join", "change", "regime", "addModerator",
+            "addBuyer", "takeBack", "addAccount", "addRule", "setLikeness");
+    private static final List<String> OFTEN = List.of("report", "decide", "view", "appeal", "edit",
+            "vote");
     private static final List<String> LOOKS = List.of("weight", "stateOf", "breaks", "pressure", "queued", "queueAt",
             "next", "stands", "reach", "strikes", "isBanned", "jurorAt", "late", "lost", "isHidden", "score",
             "machineWeight", "alike", "beside", "seen", "owed", "heat", "feedSize", "feedAt", "numberOf",
@@ -26,6 +28,7 @@ final class RandomRunsTest {
     private final List<Method> changes = new ArrayList<>();
     private final List<Method> looks = new ArrayList<>();
     private final int markRange;
+    private int accounts = 0;
 
     private RandomRunsTest(long seed) {
         random = new Random(seed);
@@ -40,7 +43,7 @@ final class RandomRunsTest {
                 looks.add(method);
                 continue;
             }
-            int times = RARE.contains(method.getName()) ? 1 : OFTEN.contains(method.getName()) ? 8 : 3;
+            int times = RARE.contains(method.getName()) ? 1 : OFTEN.contains(method.getName()) ? 9 : 3;
             for (int i = 0; i < times; i++) {
                 changes.add(method);
             }
@@ -55,14 +58,18 @@ final class RandomRunsTest {
     }
 
     private String play() {
-        int accounts = 2 + random.nextInt(11);
+        accounts = 3 + random.nextInt(10);
         for (int i = 0; i < accounts; i++) {
             house.addAccount();
             model.addAccount();
         }
-        house.addModerator(255, 9);
-        model.addModerator(255, 9);
-        for (int i = accounts + 1; i < CALLS; i++) {
+        for (int i = 0; i < 2; i++) {
+            house.addModerator(255, 9);
+            model.addModerator(255, 9);
+            house.addRule(1 + i, 0, 'n', i);
+            model.addRule(1 + i, 0, 'n', i);
+        }
+        for (int i = accounts + 4; i < CALLS; i++) {
             Method method = pick();
             Object[] arguments = arguments(method);
             String got = call(house, method, arguments);
@@ -110,7 +117,7 @@ final class RandomRunsTest {
             Method same = on.getClass().getMethod(method.getName(), method.getParameterTypes());
             return String.valueOf(same.invoke(on, arguments));
         } catch (InvocationTargetException e) {
-            return "throws " + e.getCause().getClass().getName();
+            return "throws " + Check.nameOf(e.getCause());
         } catch (ReflectiveOperationException e) {
             return "has no such call: " + e;
         }
@@ -139,15 +146,19 @@ final class RandomRunsTest {
         switch (parameter) {
             case "account":
             case "other":
-                return random.nextInt(12);
+                return random.nextInt(accounts);
             case "post":
-                return random.nextInt(1 + Math.min(50, posts()));
+                return post(method);
             case "rule":
-                return random.nextInt(4) - (method.equals("decide") ? random.nextInt(2) : 0);
+                return random.nextInt(3) - (method.equals("decide") ? random.nextInt(2) : 0);
             case "decision":
-                return random.nextInt(1 + Math.min(39, decisions()));
-            case "moderator":
+                return decision(method);
+            case "order":
+                return random.nextInt(1 + model.orders.size());
+            case "index":
                 return random.nextInt(3);
+            case "moderator":
+                return random.nextInt(2);
             case "needs":
                 return 1 << random.nextInt(3);
             case "excepts":
@@ -184,32 +195,40 @@ final class RandomRunsTest {
         }
     }
 
-    private int posts() {
-        int count = 0;
-        while (count < 50 && answers(house, "stateOf", count)) {
-            count++;
+    private int post(String method) {
+        List<Integer> queue = model.queue();
+        if (method.equals("decide") && !queue.isEmpty() && random.nextInt(8) > 0) {
+            return queue.get(random.nextInt(queue.size()));
         }
-        return count;
+        return random.nextInt(Math.max(1, model.posts.size()));
     }
 
-    private int decisions() {
-        int count = 0;
-        while (count < 40 && answers(house, "stands", count)) {
-            count++;
-        }
-        return count;
-    }
-
-    private static boolean answers(ModHouse house, String what, int number) {
-        try {
-            if (what.equals("stateOf")) {
-                house.stateOf(number);
-            } else {
-                house.stands(number);
+    /** Mostly a decision for which the call means something. */
+    private int decision(String method) {
+        List<Integer> fitting = new ArrayList<>();
+        for (int i = 0; i < model.decisions.size(); i++) {
+            if (random.nextInt(10) == 0 || fits(method, model.decisions.get(i))) {
+                fitting.add(i);
             }
-            return true;
-        } catch (IndexOutOfBoundsException e) {
-            return false;
+        }
+        return fitting.isEmpty() ? 0 : fitting.get(random.nextInt(fitting.size()));
+    }
+
+    private static boolean fits(String method, Model.Decision decision) {
+        switch (method) {
+            case "appeal":
+                return decision.stands && !decision.appealed;
+            case "hear":
+            case "jury":
+                return decision.waits && decision.jurors == null;
+            case "vote":
+                return decision.waits && decision.jurors != null;
+            case "jurorAt":
+                return decision.jurors != null;
+            case "spread":
+                return decision.stands && decision.spread == null;
+            default:
+                return true;
         }
     }
 }

@@ -9,6 +9,7 @@ final class ReportsTest {
         reportsOnceForEdits(c);
         eightyReports(c);
         pressures(c);
+        pressureOfAll(c);
         queue(c);
         harmOfReportsThatWait(c);
     }
@@ -99,6 +100,24 @@ final class ReportsTest {
         c.is("pressure when all are done", x.pressure(0), 0);
         c.noIndex("pressure(3)", () -> x.pressure(3));
         c.noIndex("pressure(-1)", () -> x.pressure(-1));
+    }
+
+    private static void pressureOfAll(Check c) {
+        ModHouse x = Houses.withAccounts(12);
+        for (int i = 0; i < 6; i++) {
+            x.addRule(1, 0, 'l', 0);
+            x.setScore(i, 0, 1);
+            x.setThreshold(i, 1);
+        }
+        x.post(5, 1);
+        for (int i = 0; i < 12; i++) {
+            if (i != 5) {
+                x.report(i, 0, i % 6);
+            }
+        }
+        c.is("pressure by 11 persons and 6 classifiers", x.pressure(0), 170);
+        x.report(0, 0, 5);
+        c.is("pressure by the same again, not one behind the other", x.pressure(0), 170);
     }
 
     private static void queue(Check c) {
