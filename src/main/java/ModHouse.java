@@ -393,7 +393,7 @@ public final class ModHouse {
             throw new IllegalArgumentException("the number of people is out of range");
         }
         int seeing = people;
-        if (!isShown(viewed, land)) {
+        if (viewed.isWithheld(land) || isDown(viewed)) {
             seeing = 0;
         } else if (harmOn(viewed) == NARROW) {
             seeing = people / 2;
@@ -426,7 +426,7 @@ public final class ModHouse {
         int person = findPerson(account);
         Post parent = findPost(post);
         checkMarks(marks);
-        if (isOut(person) || isRemoved(parent) || isCovered(parent)) {
+        if (isOut(person) || isDown(parent)) {
             throw new UnsupportedOperationException("the person is banned, or the post is removed or hidden");
         }
         checkRoomForPost();
@@ -767,18 +767,19 @@ public final class ModHouse {
         return harmOn(post) == REMOVE;
     }
 
-    /** A reply is hidden by any post above it in its thread that is removed. */
+    /** A reply is hidden by any post above it in its thread that is removed; a post that is none has no one above. */
     private boolean isCovered(Post post) {
-        for (Post above = post.parent; above != null; above = above.parent) {
-            if (isRemoved(above)) {
+        return isDown(post.parent);
+    }
+
+    /** Whether one of a post and those above it in its thread is removed. */
+    private boolean isDown(Post post) {
+        for (Post at = post; at != null; at = at.parent) {
+            if (harmOn(at) == REMOVE) {
                 return true;
             }
         }
         return false;
-    }
-
-    private boolean isShown(Post post, int land) {
-        return !post.isWithheld(land) && !isRemoved(post) && !isCovered(post);
     }
 
     private int newFamily() {
@@ -819,17 +820,9 @@ public final class ModHouse {
         int count = 0;
         for (int i = 0; i < posts.size(); i++) {
             Post post = posts.get(i);
-            if (people.lowest[post.account] == person) {
-                count += countStrikesOn(post);
+            for (int j = 0; j < decisions.size() && people.lowest[post.account] == person; j++) {
+                count += decisions.get(j).strikesOn(post, day);
             }
-        }
-        return count;
-    }
-
-    private int countStrikesOn(Post post) {
-        int count = 0;
-        for (int i = 0; i < decisions.size(); i++) {
-            count += decisions.get(i).strikesOn(post, day);
         }
         return count;
     }
@@ -902,7 +895,7 @@ public final class ModHouse {
     private void rankFeed(int land) {
         for (int i = 0; i < posts.size(); i++) {
             Post post = posts.get(i);
-            keys[i] = isShown(post, land) ? heatOf(post) : UNLISTED;
+            keys[i] = post.isWithheld(land) || isDown(post) ? UNLISTED : heatOf(post);
         }
     }
 
@@ -1418,23 +1411,20 @@ public final class ModHouse {
             return (spreadTo >> other.number & 1L) != 0L;
         }
 
-        private Version versionOn(Post other) {
-            if (rule == null || !isStanding() || other.family != family && !isSpreadTo(other)) {
-                return null;
-            }
-            return rule.versionFor(other.day);
+        private boolean isMeantFor(Post other) {
+            return isStanding() && (other.family == family || isSpreadTo(other));
         }
 
         private boolean actsOn(Post other) {
-            return versionOn(other) != null;
+            return rule != null && isMeantFor(other) && rule.versionFor(other.day) != null;
         }
 
         private int harmOn(Post other) {
-            return rule != null && actsOn(other) ? rule.harmFor(other.day) : NO_HARM;
+            return rule != null && isMeantFor(other) ? rule.harmFor(other.day) : NO_HARM;
         }
 
         private int strikesOn(Post other, int today) {
-            Version version = versionOn(other);
+            Version version = rule != null && isMeantFor(other) ? rule.versionFor(other.day) : null;
             if (version == null) {
                 return 0;
             }

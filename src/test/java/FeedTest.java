@@ -147,6 +147,10 @@ final class FeedTest {
         c.is("feedAt(1, 2) by number", x.feedAt(1, 2), 2);
         c.is("feedAt(1, 3) by number", x.feedAt(1, 3), 4);
         c.is("feedAt(1, 4) below 0", x.feedAt(1, 4), 0);
+        x.view(0, 0, 30);
+        c.is("feedAt(1, 0) of the first post", x.feedAt(1, 0), 0);
+        c.is("feedAt(1, 1) behind it", x.feedAt(1, 1), 3);
+        c.is("feedAt(1, 4) behind all", x.feedAt(1, 4), 4);
         c.noIndex("feedAt(1, 5)", () -> x.feedAt(1, 5));
         c.noIndex("feedAt(1, -1)", () -> x.feedAt(1, -1));
         c.noArgument("feedAt(3, 9)", () -> x.feedAt(3, 9));

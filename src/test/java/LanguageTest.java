@@ -16,14 +16,19 @@ import com.sun.source.tree.TryTree;
 import com.sun.source.tree.VariableTree;
 import com.sun.source.util.JavacTask;
 import com.sun.source.util.SourcePositions;
+import com.sun.source.util.TreePathScanner;
 import com.sun.source.util.TreeScanner;
 import com.sun.source.util.Trees;
 import java.io.IOException;
 import java.nio.file.Files;
 import java.nio.file.Path;
+import java.util.HashMap;
 import java.util.HashSet;
 import java.util.List;
+import java.util.Map;
 import java.util.Set;
+import java.util.TreeSet;
+import javax.lang.model.element.Element;
 import javax.lang.model.element.Modifier;
 import javax.tools.JavaCompiler;
 import javax.tools.StandardJavaFileManager;
@@ -66,8 +71,11 @@ final class LanguageTest extends TreeScanner<Void, Void> {
             try (StandardJavaFileManager files = compiler.getStandardFileManager(null, null, null)) {
                 JavacTask task = (JavacTask) compiler.getTask(null, files, null, null, null,
                         files.getJavaFileObjects(SOURCE));
+                Trees trees = Trees.instance(task);
                 for (CompilationUnitTree unit : task.parse()) {
-                    new LanguageTest(c, unit, Trees.instance(task).getSourcePositions()).scanAll();
+                    task.analyze();
+                    new LanguageTest(c, unit, trees.getSourcePositions()).scanAll();
+                    c.is("rule 11: calls that go more than eight deep", new Depths(trees, unit).deeperThan(8), "[]");
                 }
             }
         } catch (IOException e) {
@@ -93,6 +101,49 @@ final class LanguageTest extends TreeScanner<Void, Void> {
     private String place(Tree tree) {
         LineMap lines = unit.getLineMap();
         return "line " + lines.getLineNumber(positions.getStartPosition(unit, tree)) + ": ";
+    }
+
+    /** The methods of the file by which other methods of it each one calls. */
+    private static final class Depths extends TreePathScanner<Void, Void> {
+        private final Trees trees;
+        private final Map<Element, Set<Element>> calls = new HashMap<>();
+        private Element caller = null;
+
+        private Depths(Trees trees, CompilationUnitTree unit) {
+            this.trees = trees;
+            scan(unit, null);
+        }
+
+        @Override
+        public Void visitMethod(MethodTree tree, Void none) {
+            caller = trees.getElement(getCurrentPath());
+            calls.put(caller, new HashSet<>());
+            return super.visitMethod(tree, none);
+        }
+
+        @Override
+        public Void visitMethodInvocation(MethodInvocationTree tree, Void none) {
+            calls.get(caller).add(trees.getElement(getCurrentPath()));
+            return super.visitMethodInvocation(tree, none);
+        }
+
+        private String deeperThan(int most) {
+            Set<String> deep = new TreeSet<>();
+            for (Element method : calls.keySet()) {
+                if (depth(method, most + 1) > most) {
+                    deep.add(method.toString());
+                }
+            }
+            return deep.toString();
+        }
+
+        private int depth(Element method, int left) {
+            int deepest = 0;
+            for (Element called : left == 0 ? Set.<Element>of() : calls.getOrDefault(method, Set.of())) {
+                deepest = Math.max(deepest, depth(called, left - 1));
+            }
+            return calls.containsKey(method) ? 1 + deepest : 0;
+        }
     }
 
     @Override

@@ -642,7 +642,7 @@ public final class Model {
 
     public int setScore(int rule, int mark, int score) {
         index(out(rule, rules.size()));
-        argument(out(mark, 8) || Math.abs(score) > 9);
+        argument(out(mark, 8) || out(score + 9, 19));
         if (scores.get(rule) == null) {
             scores.set(rule, new int[8]);
         }
@@ -653,7 +653,7 @@ public final class Model {
 
     public int setThreshold(int rule, int threshold) {
         index(out(rule, rules.size()));
-        argument(Math.abs(threshold) > 72);
+        argument(out(threshold + 72, 145));
         element(scores.get(rule) == null);
         int before = thresholds[rule];
         thresholds[rule] = threshold;

@@ -88,6 +88,9 @@ final class NumbersTest {
         ModHouse x = Houses.ruled(4, 'l', 0);
         x.addRule(1, 0, 'l', 0);
         x.post(0, 1);
+        x.post(0, 1);
+        Houses.decided(x, 1, 1, 0);
+        c.is("t of a decision on the same day", x.numberOf(0, 't'), 0);
         x.report(1, 0, 1);
         x.pass(3);
         x.report(1, 0, 0);
@@ -99,7 +102,7 @@ final class NumbersTest {
         x.pass(4);
         x.decide(0, 0, 0);
         c.is("t of two decisions: what was done waits no more", x.numberOf(0, 't'), 9);
-        x.takeBack(0);
+        x.takeBack(1);
         c.is("t also of what was taken back", x.numberOf(0, 't'), 9);
         x.report(3, 0, 0);
         x.pass(1);
@@ -109,8 +112,8 @@ final class NumbersTest {
         x.setThreshold(1, 1);
         x.post(0, 2);
         x.pass(2);
-        x.report(1, 1, 0);
-        x.decide(0, 1, 0);
+        x.report(1, 2, 0);
+        x.decide(0, 2, 0);
         c.is("t from the report of a classifier", x.numberOf(0, 't'), 11);
     }
 

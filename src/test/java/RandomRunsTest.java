@@ -141,7 +141,8 @@ final class RandomRunsTest {
 
     private int number(String method, String parameter) {
         if (random.nextInt(60) == 0) {
-            return random.nextInt(2) == 0 ? -1 : random.nextInt(300);
+            int[] wild = {-1, random.nextInt(300), Integer.MIN_VALUE, Integer.MAX_VALUE};
+            return wild[random.nextInt(wild.length)];
         }
         switch (parameter) {
             case "account":
