@@ -18,6 +18,8 @@ final class AllTests {
         LikenessTest.run(c);
         FeedTest.run(c);
         NumbersTest.run(c);
+        RefusalsTest.run(c);
+        RangesTest.run(c);
         RandomRunsTest.run(c);
         RoomTest.run(c);
         if (!c.close()) {
