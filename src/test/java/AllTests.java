@@ -20,6 +20,9 @@ final class AllTests {
         NumbersTest.run(c);
         RefusalsTest.run(c);
         RangesTest.run(c);
+        LimitsTest.run(c);
+        DaysTest.run(c);
+        EdgesTest.run(c);
         RandomRunsTest.run(c);
         RoomTest.run(c);
         if (!c.close()) {
