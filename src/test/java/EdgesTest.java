@@ -25,14 +25,17 @@ final class EdgesTest {
         precedentsOfEdits(c);
         bansByStrikes(c);
         lots(c);
+        whoCanBeDrawn(c);
         lotsAreKept(c);
         halves(c);
         lostByEach(c);
+        lostWhateverHidIt(c);
         amendsToTheLast(c);
         thresholds(c);
         boundClassifiers(c);
         likeness(c);
         spreadsToWhatBreaksNow(c);
+        versionsOfEach(c);
         worseActs(c);
         buyers(c);
         heats(c);
@@ -60,6 +63,13 @@ final class EdgesTest {
         c.notAllowed("edit by one who is banned by another account", () -> y.edit(1, 1));
         y.join(2, 1);
         c.is("isBanned of a third account", y.isBanned(2), true);
+        y.addAccount();
+        y.addAccount();
+        y.post(3, 0);
+        y.report(6, 2, 0);
+        y.join(6, 5);
+        c.notAllowed("report by the lower account of who has reported it", () -> y.report(5, 2, 0));
+        c.notAllowed("report again by the account that has reported it", () -> y.report(6, 2, 0));
         c.is("pressure by a report that waits, whatever becomes of the person", y.pressure(1), 20);
         c.is("appeal by the third account", y.appeal(0, 2), 13);
     }
@@ -455,6 +465,27 @@ final class EdgesTest {
         }
     }
 
+    /** Nobody is banned here; 0 posted it, 1 a copy, 2 is one to whom it spread, 9 and 3 reported it. */
+    private static void whoCanBeDrawn(Check c) {
+        ModHouse x = Houses.ruled(10, 'l', 0);
+        x.addRule(1, 0, 'l', 0);
+        x.post(0, 1);
+        x.copy(1, 0);
+        x.post(2, 1);
+        x.post(4, 0);
+        x.report(8, 0, 0);
+        x.decide(0, 0, -1);
+        x.report(9, 0, 0);
+        x.report(5, 0, 1);
+        int d = x.decide(0, 0, 0);
+        x.spread(d);
+        x.join(9, 3);
+        x.appeal(d, 2);
+        c.is("jury: 48271 modulo 4 is 3 of 4, 5, 6, 7", x.jury(d), 7);
+        c.is("jurorAt(1): 182605794 modulo 3 is 0 of 4, 5, 6", x.jurorAt(d, 1), 4);
+        c.is("jurorAt(2): 1291394886 modulo 2 is 0 of 5, 6", x.jurorAt(d, 2), 5);
+    }
+
     /** A jury that can't be drawn, or was refused, takes no lot. */
     private static void lotsAreKept(Check c) {
         ModHouse x = Houses.ruled(4, 'l', 0);
@@ -525,6 +556,27 @@ final class EdgesTest {
         c.is("lost is kept", x.lost(0), 18);
         x.view(0, 0, 4);
         c.is("owed by one less for each", x.owed(0), 40);
+    }
+
+    /** A post that is narrowed, and also withheld, or also hidden: all that it lost is charged to what narrows it. */
+    private static void lostWhateverHidIt(Check c) {
+        ModHouse x = Houses.ruled(3, 'n', 0);
+        x.addRule(2, 0, 'r', 0);
+        x.post(0, 2);
+        x.reply(1, 0, 1);
+        x.order(2, 1, 0);
+        x.obey(0);
+        x.view(1, 2, 100);
+        int narrow = Houses.decided(x, 2, 1, 0);
+        c.is("view where it is withheld", x.view(1, 2, 9), 0);
+        int remove = Houses.decided(x, 2, 0, 1);
+        c.is("view as it is hidden", x.view(1, 0, 20), 0);
+        x.takeBack(remove);
+        c.is("owed by what hid it", x.owed(1), 0);
+        c.is("view as it is narrowed alone", x.view(1, 0, 3), 1);
+        x.takeBack(narrow);
+        c.is("owed by what narrowed it: 9, 20 and 2", x.owed(1), 31);
+        c.is("lost with what no decision is charged with", x.lost(1), 131);
     }
 
     private static void amendsToTheLast(Check c) {
@@ -648,12 +700,40 @@ final class EdgesTest {
         }
         x.edit(3, 1);
         x.post(2, 1);
-        c.is("reach: no more, though two are alike now", x.reach(d), 4);
+        x.pass(1);
+        x.post(2, 1);
+        x.copy(2, 1);
+        c.is("reach: no more, though four are alike now", x.reach(d), 4);
         x.setLikeness(0);
         c.is("reach: no less, though two are not alike now", x.reach(d), 4);
-        x.change(0, 128, 0, 'r', 0);
-        c.is("reach: no less, though none breaks it now", x.reach(d), 4);
-        c.is("stateOf by the version that took the place", x.stateOf(2), 'r');
+        c.is("stateOf of a copy of one to which it spread", x.stateOf(9), '-');
+    }
+
+    /** Strikes, acts and days are those of each post: 0 of the first version, its copies of later ones. */
+    private static void versionsOfEach(Check c) {
+        ModHouse x = Houses.ruled(5, 'l', 0);
+        x.post(0, 1);
+        x.pass(1);
+        x.change(0, 2, 0, 'n', 1);
+        x.copy(1, 0);
+        x.pass(1);
+        x.change(0, 4, 0, 'r', 2);
+        x.copy(2, 0);
+        x.post(3, 1);
+        x.setLikeness(3);
+        int d = Houses.decided(x, 4, 1, 0);
+        c.is("reach", x.reach(d), 3);
+        char[] acts = {'l', 'n', 'r', '-'};
+        for (int i = 0; i < acts.length; i++) {
+            c.is("stateOf by the version of each, " + i, x.stateOf(i), acts[i]);
+            c.is("strikes by the version of each, " + i, x.strikes(i), i % 3);
+        }
+        c.is("spread to none, as it lacks what its version needs", x.spread(d), 0);
+        x.change(0, 1, 2, 'r', 3);
+        c.is("reach by a version that took the place", x.reach(d), 3);
+        c.is("stateOf by one of an earlier day still", x.stateOf(1), 'n');
+        c.is("strikes by one that took the place", x.strikes(2), 3);
+        c.is("breaks by one that took the place", x.breaks(2, 0), true);
     }
 
     private static void worseActs(Check c) {

@@ -48,6 +48,7 @@ final class LandsTest {
         c.is("view in the first land still", x.view(0, 1, 10), 0);
         c.is("view in the third land", x.view(0, 0, 10), 10);
         c.is("obey another order of the same land", x.obey(2), 0);
+        c.is("view in the first land as both are obeyed", x.view(0, 1, 10), 0);
         c.notAllowed("obey again", () -> x.obey(0));
         c.noIndex("obey(3)", () -> x.obey(3));
         c.noIndex("obey(-1)", () -> x.obey(-1));

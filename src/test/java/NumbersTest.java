@@ -8,6 +8,7 @@ final class NumbersTest {
         actedOn(c);
         reports(c);
         daysWaited(c);
+        daysWaitedByTheFirstDecision(c);
         noSuchNumbers(c);
         shares(c);
         means(c);
@@ -115,6 +116,15 @@ final class NumbersTest {
         x.report(1, 2, 0);
         x.decide(0, 2, 0);
         c.is("t from the report of a classifier", x.numberOf(0, 't'), 11);
+    }
+
+    private static void daysWaitedByTheFirstDecision(Check c) {
+        ModHouse x = Houses.ruled(2, 'l', 0);
+        x.post(0, 1);
+        x.report(1, 0, 0);
+        x.pass(6);
+        x.decide(0, 0, 0);
+        c.is("t of the first decision of all", x.numberOf(0, 't'), 6);
     }
 
     private static void noSuchNumbers(Check c) {
