@@ -217,7 +217,7 @@ final class RangesTest {
             }
         }
         c.noArgument("addRule of the last sign", () -> x.addRule(1, 0, Character.MAX_VALUE, 0));
-        c.is("what they changed", Told.difference(x, Twins.made(y -> Houses.busy(y))), "none");
+        c.is("what they changed", Told.difference(Told.of(x), Told.of(Twins.made(y -> Houses.busy(y)))), "none");
         String acts = "lnr";
         for (int i = 0; i < 3; i++) {
             char act = acts.charAt(i);

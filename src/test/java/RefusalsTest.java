@@ -440,6 +440,19 @@ final class RefusalsTest {
         }
     }
 
+    private static void spreadWithStrikes(ModHouse x) {
+        addAccounts(x, 3);
+        x.addModerator(255, 9);
+        x.addRule(1, 0, 'n', 1);
+        x.post(0, 1);
+        x.post(1, 1);
+        x.report(2, 0, 0);
+        x.decide(0, 0, 0);
+        x.pass(1);
+        x.spread(0);
+        x.pass(1);
+    }
+
     private void likeness() {
         noArgument("setLikeness out of range", x -> x.setLikeness(4));
         noIndex("alike to no such post", x -> x.alike(9));
@@ -448,6 +461,7 @@ final class RefusalsTest {
         notAllowed("spread of one taken back", x -> x.spread(2));
         notAllowed("spread of one overturned", x -> x.spread(5));
         notAllowed("spread again", x -> x.spread(6));
+        Twins.notAllowed(c, "spread again, with strikes", x -> spreadWithStrikes(x), x -> x.spread(0));
         noIndex("regime of no such rule", x -> x.regime(3, 'r', 0, 0));
         noArgument("regime of no such act", x -> x.regime(0, 'x', 0, 0));
         noArgument("regime from below 0", x -> x.regime(0, 'r', -1, 0));

@@ -50,7 +50,7 @@ final class Told {
         }
     }
 
-    /** What a house tells; it is used up by that. */
+    /** What a house tells as it is used on; it is used up by that. */
     static List<String> of(ModHouse x) {
         Told told = new Told(x);
         told.looks();
@@ -61,10 +61,17 @@ final class Told {
         return told.lines;
     }
 
-    /** The first line in which two houses differ; "none" if they are alike. Both are used up by that. */
-    static String difference(ModHouse one, ModHouse other) {
-        List<String> ones = of(one);
-        List<String> others = of(other);
+    /** What a house tells as days pass, behind which nothing counts that ages; it is used up by that. */
+    static List<String> ofDays(ModHouse x) {
+        Told told = new Told(x);
+        for (int i = 0; i < 92; i++) {
+            told.ages(i);
+        }
+        return told.lines;
+    }
+
+    /** The first line in which what two houses tell differs; "none" if they are alike. */
+    static String difference(List<String> ones, List<String> others) {
         for (int i = 0; i < ones.size() && i < others.size(); i++) {
             if (!ones.get(i).equals(others.get(i))) {
                 return ones.get(i) + " instead of " + others.get(i);
@@ -186,6 +193,14 @@ final class Told {
 
     /** What can be had in a number only is asked for, and what is told with an answer of what was ahead of it. */
     private void starts() {
+        for (int i = 0; i < accounts; i++) {
+            int account = i;
+            tell("post " + i, () -> x.post(account, 1));
+            for (int j = 0; j < rules; j++) {
+                int rule = j;
+                tell("breaks of it " + j, () -> x.breaks(posts, rule));
+            }
+        }
         tell("addAccount", () -> x.addAccount());
         tell("addRule", () -> x.addRule(1, 0, 'l', 0));
         tell("addModerator", () -> x.addModerator(255, 9));
@@ -201,10 +216,6 @@ final class Told {
             }
             tell("change " + i, () -> x.change(rule, 1, 0, 'n', 1));
             tell("regime " + i, () -> x.regime(rule, 'n', 0, 99));
-        }
-        for (int i = 0; i < accounts; i++) {
-            int account = i;
-            tell("post " + i, () -> x.post(account, 1));
         }
     }
 
@@ -229,5 +240,18 @@ final class Told {
             int account = i;
             tell("join " + i, () -> x.join(account, account - 1));
         }
+    }
+
+    private void ages(int days) {
+        for (int i = 0; i < accounts; i++) {
+            int account = i;
+            tell("strikes " + i + " after " + days, () -> x.strikes(account));
+        }
+        for (int i = 0; i < posts && days < 9; i++) {
+            int post = i;
+            tell("heat " + i + " after " + days, () -> x.heat(post));
+        }
+        tell("late after " + days, () -> x.late());
+        tell("pass", () -> x.pass(1));
     }
 }

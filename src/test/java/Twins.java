@@ -17,7 +17,15 @@ final class Twins {
     static void refused(Check c, String what, Class<? extends RuntimeException> due, Calls making, Calls call) {
         ModHouse x = made(making);
         c.fails(what, due, () -> call.on(x));
-        c.is(what + " changed", Told.difference(x, made(making)), "none");
+        ModHouse y = made(making);
+        c.fails(what, due, () -> call.on(y));
+        c.is(what + " changed", difference(x, y, making), "none");
+    }
+
+    /** What tells two houses, which are used up by that, from those that are made so. */
+    static String difference(ModHouse x, ModHouse y, Calls making) {
+        String told = Told.difference(Told.of(x), Told.of(made(making)));
+        return told.equals("none") ? Told.difference(Told.ofDays(y), Told.ofDays(made(making))) : told;
     }
 
     static void noIndex(Check c, String what, Calls making, Calls call) {
