@@ -7,12 +7,13 @@ import java.util.List;
 import java.util.Random;
 
 /**
- * Runs of 512 calls by seeds, each call also put to the Model: answers and exceptions must be the same, and what is
- * told by the calls that only look must be the same behind calls that throw.
+ * Runs of 512 calls by seeds, each call also put to the Model: answers and exceptions must be the same. Then each run is
+ * gone through again up to some call, and what is told by the calls that only look must be the same there.
  */
 final class RandomRunsTest {
     private static final int CALLS = 512;
-    private static final int RUNS = 150;
+    private static final int RUNS = 300;
+    private static final int PLACES = 7;
     private static final List<String> RARE = List.of("join", "change", "regime", "addModerator",
             "addBuyer", "takeBack", "addAccount", "addRule", "setLikeness");
     private static final List<String> OFTEN = List.of("report", "decide", "view", "appeal", "edit",
@@ -22,9 +23,13 @@ final class RandomRunsTest {
             "machineWeight", "alike", "beside", "seen", "owed", "heat", "feedSize", "feedAt", "numberOf",
             "standShare", "meanWeight", "isSound");
 
+    private record Step(Method method, Object[] arguments) {
+    }
+
     private final Random random;
-    private final ModHouse house = new ModHouse();
-    private final Model model = new Model();
+    private ModHouse house = new ModHouse();
+    private Model model = new Model();
+    private final List<Step> steps = new ArrayList<>();
     private final List<Method> changes = new ArrayList<>();
     private final List<Method> looks = new ArrayList<>();
     private final int markRange;
@@ -59,6 +64,28 @@ final class RandomRunsTest {
 
     private String play() {
         accounts = 3 + random.nextInt(10);
+        begin();
+        for (int i = accounts + 4; i < CALLS; i++) {
+            Step step = step(pick());
+            steps.add(step);
+            String difference = put(step);
+            if (difference != null) {
+                return "call " + i + ": " + difference;
+            }
+        }
+        for (int i = 1; i <= PLACES; i++) {
+            int calls = steps.size() * i / (PLACES + 1);
+            String difference = lookBehind(calls);
+            if (difference != null) {
+                return "behind call " + (accounts + 4 + calls) + ": " + difference;
+            }
+        }
+        return "the same";
+    }
+
+    private void begin() {
+        house = new ModHouse();
+        model = new Model();
         for (int i = 0; i < accounts; i++) {
             house.addAccount();
             model.addAccount();
@@ -69,47 +96,38 @@ final class RandomRunsTest {
             house.addRule(1 + i, 0, 'n', i);
             model.addRule(1 + i, 0, 'n', i);
         }
-        for (int i = accounts + 4; i < CALLS; i++) {
-            Method method = pick();
-            Object[] arguments = arguments(method);
-            String got = call(house, method, arguments);
-            String due = call(model, method, arguments);
-            if (!got.equals(due)) {
-                return "call " + i + ": " + method.getName() + Arrays.toString(arguments) + " answered " + got
-                        + ", the model " + due;
-            }
-            if (i % 16 == 0 || got.startsWith("throws") && i % 8 == 0) {
-                String told = compareAll();
-                if (told != null) {
-                    return "behind call " + i + " " + method.getName() + Arrays.toString(arguments) + ": " + told;
-                }
+    }
+
+    /** Goes through the run again up to some call, and looks with all calls that are left. */
+    private String lookBehind(int calls) {
+        begin();
+        for (int i = 0; i < calls; i++) {
+            put(steps.get(i));
+        }
+        for (int i = accounts + 4 + calls; i < CALLS; i++) {
+            String difference = put(step(looks.get(i % looks.size())));
+            if (difference != null) {
+                return difference;
             }
         }
-        return "the same";
+        return null;
+    }
+
+    private Step step(Method method) {
+        return new Step(method, arguments(method));
+    }
+
+    /** Puts a call to both and tells how they differ; null if they answer the same. */
+    private String put(Step step) {
+        String got = call(house, step.method, step.arguments);
+        String due = call(model, step.method, step.arguments);
+        return got.equals(due) ? null : step.method.getName() + Arrays.toString(step.arguments) + " answered " + got
+                + ", the model " + due;
     }
 
     private Method pick() {
         return random.nextInt(4) == 0 ? looks.get(random.nextInt(looks.size()))
                 : changes.get(random.nextInt(changes.size()));
-    }
-
-    /** All that can be told with one argument, or none, by both. */
-    private String compareAll() {
-        for (Method method : looks) {
-            int most = method.getParameterCount() == 0 ? 1 : 12;
-            for (int i = 0; i < most; i++) {
-                Object[] arguments = arguments(method);
-                if (method.getParameterCount() == 1) {
-                    arguments[0] = i < 10 ? i : random.nextInt(52) - 1;
-                }
-                String got = call(house, method, arguments);
-                String due = call(model, method, arguments);
-                if (!got.equals(due)) {
-                    return method.getName() + Arrays.toString(arguments) + " answered " + got + ", the model " + due;
-                }
-            }
-        }
-        return null;
     }
 
     private static String call(Object on, Method method, Object[] arguments) {

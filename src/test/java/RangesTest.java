@@ -5,6 +5,7 @@
 final class RangesTest {
     private static final Class<IllegalArgumentException> ARGUMENT = IllegalArgumentException.class;
     private static final Class<IndexOutOfBoundsException> INDEX = IndexOutOfBoundsException.class;
+    private static final Twins.Calls BUSY = x -> Houses.busy(x);
     private static final int MOST = Integer.MAX_VALUE;
 
     private final Check c;
@@ -45,7 +46,7 @@ final class RangesTest {
     /** Each number of a thing that there is does not throw that there is none, though it may throw something else. */
     private void numbers(String what, int first, int count, Class<? extends RuntimeException> due, Taking call) {
         for (int i = first; i < count; i++) {
-            ModHouse x = Twins.made(y -> Houses.busy(y));
+            ModHouse x = Twins.made(BUSY);
             String thrown = "nothing";
             try {
                 call.with(x, i);
@@ -63,7 +64,7 @@ final class RangesTest {
     }
 
     private void taken(String what, int value, Taking call) {
-        ModHouse x = Twins.made(y -> Houses.busy(y));
+        ModHouse x = Twins.made(BUSY);
         String thrown = "nothing";
         try {
             call.with(x, value);
@@ -74,12 +75,11 @@ final class RangesTest {
     }
 
     private void refused(String what, int from, int till, Class<? extends RuntimeException> due, Taking call) {
-        Twins.Calls making = x -> Houses.busy(x);
-        Twins.refused(c, what + " one too small", due, making, x -> call.with(x, from - 1));
-        Twins.refused(c, what + " least of all", due, making, x -> call.with(x, Integer.MIN_VALUE));
+                Twins.refused(c, what + " one too small", due, BUSY, x -> call.with(x, from - 1));
+        Twins.refused(c, what + " least of all", due, BUSY, x -> call.with(x, Integer.MIN_VALUE));
         if (till < MOST) {
-            Twins.refused(c, what + " one too large", due, making, x -> call.with(x, till + 1));
-            Twins.refused(c, what + " greatest of all", due, making, x -> call.with(x, MOST));
+            Twins.refused(c, what + " one too large", due, BUSY, x -> call.with(x, till + 1));
+            Twins.refused(c, what + " greatest of all", due, BUSY, x -> call.with(x, MOST));
         }
     }
 
@@ -207,8 +207,8 @@ final class RangesTest {
     }
 
     private void acts() {
-        ModHouse x = Twins.made(y -> Houses.busy(y));
         for (char act = 0; act < 600; act++) {
+            ModHouse x = Twins.made(BUSY);
             char tried = act;
             if (act != 'l' && act != 'n' && act != 'r') {
                 c.noArgument("addRule of act " + (int) act, () -> x.addRule(1, 0, tried, 0));
@@ -216,8 +216,10 @@ final class RangesTest {
                 c.noArgument("regime of act " + (int) act, () -> x.regime(0, tried, 0, 0));
             }
         }
-        c.noArgument("addRule of the last sign", () -> x.addRule(1, 0, Character.MAX_VALUE, 0));
-        c.is("what they changed", Told.difference(Told.of(x), Told.of(Twins.made(y -> Houses.busy(y)))), "none");
+        ModHouse last = Twins.made(BUSY);
+        c.noArgument("addRule of the last sign", () -> last.addRule(1, 0, Character.MAX_VALUE, 0));
+        c.noArgument("change to the last sign", () -> last.change(0, 1, 0, Character.MAX_VALUE, 0));
+        c.noArgument("regime of the last sign", () -> last.regime(0, Character.MAX_VALUE, 0, 0));
         String acts = "lnr";
         for (int i = 0; i < 3; i++) {
             char act = acts.charAt(i);
@@ -228,9 +230,9 @@ final class RangesTest {
     }
 
     private void numbersByRule() {
-        ModHouse x = Twins.made(y -> Houses.busy(y));
         String numbers = "dsobarwmt";
         for (char what = 0; what < 600; what++) {
+            ModHouse x = Twins.made(BUSY);
             char tried = what;
             if (numbers.indexOf(what) < 0) {
                 c.noArgument("numberOf " + (int) what, () -> x.numberOf(0, tried));

@@ -3,6 +3,22 @@
  * is thrown." For each call each exception alone, and each two of which both apply.
  */
 final class RefusalsTest {
+    private static final Twins.Calls BUSY = x -> Houses.busy(x);
+    private static final Twins.Calls FULL = x -> Houses.full(x);
+    private static final Twins.Calls SIX_RULES = x -> sixRules(x);
+    private static final Twins.Calls EIGHTY_REPORTS = x -> eightyReports(x);
+    private static final Twins.Calls FOUR_MODERATORS = x -> fourModerators(x);
+    private static final Twins.Calls AT_THE_LIMIT = x -> atTheLimit(x);
+    private static final Twins.Calls FORTY_DECISIONS = x -> fortyDecisions(x);
+    private static final Twins.Calls LATE = x -> late(x);
+    private static final Twins.Calls FEW_PERSONS = x -> fewPersons(x);
+    private static final Twins.Calls HEARD_BY_JURY = x -> heardByJury(x);
+    private static final Twins.Calls TWENTY_ORDERS = x -> twentyOrders(x);
+    private static final Twins.Calls BANNED_WITH_ANOTHER_POST = x -> bannedWithAnotherPost(x);
+    private static final Twins.Calls SIX_REGIMES = x -> sixRegimes(x);
+    private static final Twins.Calls SPREAD_WITH_STRIKES = x -> spreadWithStrikes(x);
+    private static final Twins.Calls FOUR_BUYERS = x -> fourBuyers(x);
+
     private final Check c;
 
     private RefusalsTest(Check c) {
@@ -37,19 +53,19 @@ final class RefusalsTest {
     }
 
     private void noIndex(String what, Twins.Calls call) {
-        Twins.noIndex(c, what, x -> Houses.busy(x), call);
+        Twins.noIndex(c, what, BUSY, call);
     }
 
     private void noArgument(String what, Twins.Calls call) {
-        Twins.noArgument(c, what, x -> Houses.busy(x), call);
+        Twins.noArgument(c, what, BUSY, call);
     }
 
     private void notAllowed(String what, Twins.Calls call) {
-        Twins.notAllowed(c, what, x -> Houses.busy(x), call);
+        Twins.notAllowed(c, what, BUSY, call);
     }
 
     private void noElement(String what, Twins.Calls call) {
-        Twins.noElement(c, what, x -> Houses.busy(x), call);
+        Twins.noElement(c, what, BUSY, call);
     }
 
     private void accounts() {
@@ -72,10 +88,10 @@ final class RefusalsTest {
         notAllowed("post by one who is banned", x -> x.post(0, 0));
         noIndex("post by no such account of no such marks", x -> x.post(8, 256));
         noArgument("post of no such marks by one who is banned", x -> x.post(0, 256));
-        Twins.noState(c, "post beyond 50", x -> Houses.full(x), x -> x.post(1, 0));
-        Twins.noIndex(c, "post by no such account beyond 50", x -> Houses.full(x), x -> x.post(8, 0));
-        Twins.noArgument(c, "post of no such marks beyond 50", x -> Houses.full(x), x -> x.post(1, 256));
-        Twins.notAllowed(c, "post by one who is banned beyond 50", x -> Houses.full(x), x -> x.post(0, 0));
+        Twins.noState(c, "post beyond 50", FULL, x -> x.post(1, 0));
+        Twins.noIndex(c, "post by no such account beyond 50", FULL, x -> x.post(8, 0));
+        Twins.noArgument(c, "post of no such marks beyond 50", FULL, x -> x.post(1, 256));
+        Twins.notAllowed(c, "post by one who is banned beyond 50", FULL, x -> x.post(0, 0));
         noIndex("stateOf of no such post", x -> x.stateOf(9));
     }
 
@@ -87,11 +103,11 @@ final class RefusalsTest {
         notAllowed("copy of one removed by one who is banned", x -> x.copy(0, 0));
         noIndex("copy of no such post by one who is banned", x -> x.copy(0, 9));
         noIndex("copy of one removed by no such account", x -> x.copy(8, 0));
-        Twins.noState(c, "copy beyond 50", x -> Houses.full(x), x -> x.copy(1, 1));
-        Twins.noIndex(c, "copy by no such account beyond 50", x -> Houses.full(x), x -> x.copy(8, 1));
-        Twins.noIndex(c, "copy of no such post beyond 50", x -> Houses.full(x), x -> x.copy(1, 50));
-        Twins.notAllowed(c, "copy by one who is banned beyond 50", x -> Houses.full(x), x -> x.copy(0, 1));
-        Twins.notAllowed(c, "copy of one removed beyond 50", x -> Houses.full(x), x -> x.copy(1, 0));
+        Twins.noState(c, "copy beyond 50", FULL, x -> x.copy(1, 1));
+        Twins.noIndex(c, "copy by no such account beyond 50", FULL, x -> x.copy(8, 1));
+        Twins.noIndex(c, "copy of no such post beyond 50", FULL, x -> x.copy(1, 50));
+        Twins.notAllowed(c, "copy by one who is banned beyond 50", FULL, x -> x.copy(0, 1));
+        Twins.notAllowed(c, "copy of one removed beyond 50", FULL, x -> x.copy(1, 0));
     }
 
     private static void sixRules(ModHouse x) {
@@ -106,10 +122,10 @@ final class RefusalsTest {
         noArgument("addRule of no such exceptions", x -> x.addRule(1, 256, 'l', 0));
         noArgument("addRule of no such act", x -> x.addRule(1, 0, 'x', 0));
         noArgument("addRule of no such strikes", x -> x.addRule(1, 0, 'l', 4));
-        Twins.noState(c, "addRule beyond 6", x -> sixRules(x), x -> x.addRule(1, 0, 'l', 0));
-        Twins.noArgument(c, "addRule without needs beyond 6", x -> sixRules(x), x -> x.addRule(0, 0, 'l', 0));
-        Twins.noArgument(c, "addRule of no such act beyond 6", x -> sixRules(x), x -> x.addRule(1, 0, 'x', 0));
-        Twins.noArgument(c, "addRule of no such strikes beyond 6", x -> sixRules(x), x -> x.addRule(1, 0, 'l', 4));
+        Twins.noState(c, "addRule beyond 6", SIX_RULES, x -> x.addRule(1, 0, 'l', 0));
+        Twins.noArgument(c, "addRule without needs beyond 6", SIX_RULES, x -> x.addRule(0, 0, 'l', 0));
+        Twins.noArgument(c, "addRule of no such act beyond 6", SIX_RULES, x -> x.addRule(1, 0, 'x', 0));
+        Twins.noArgument(c, "addRule of no such strikes beyond 6", SIX_RULES, x -> x.addRule(1, 0, 'l', 4));
         noIndex("change of no such rule", x -> x.change(3, 1, 0, 'l', 0));
         noArgument("change without needs", x -> x.change(0, 0, 0, 'l', 0));
         noArgument("change of no such exceptions", x -> x.change(0, 1, -1, 'l', 0));
@@ -156,14 +172,14 @@ final class RefusalsTest {
     }
 
     private void reportsBeyondEighty() {
-        Twins.noState(c, "report beyond 80", x -> eightyReports(x), x -> x.report(2, 1, 1));
-        Twins.noIndex(c, "report by no such account beyond 80", x -> eightyReports(x), x -> x.report(8, 1, 1));
-        Twins.noIndex(c, "report of no such post beyond 80", x -> eightyReports(x), x -> x.report(2, 9, 1));
-        Twins.noIndex(c, "report by no such rule beyond 80", x -> eightyReports(x), x -> x.report(2, 1, 3));
-        Twins.notAllowed(c, "report by one who is banned beyond 80", x -> eightyReports(x), x -> x.report(0, 1, 1));
-        Twins.notAllowed(c, "report of an own post beyond 80", x -> eightyReports(x), x -> x.report(1, 1, 1));
-        Twins.notAllowed(c, "report again beyond 80", x -> eightyReports(x), x -> x.report(3, 1, 1));
-        Twins.notAllowed(c, "report of one removed beyond 80", x -> eightyReports(x), x -> x.report(2, 0, 1));
+        Twins.noState(c, "report beyond 80", EIGHTY_REPORTS, x -> x.report(2, 1, 1));
+        Twins.noIndex(c, "report by no such account beyond 80", EIGHTY_REPORTS, x -> x.report(8, 1, 1));
+        Twins.noIndex(c, "report of no such post beyond 80", EIGHTY_REPORTS, x -> x.report(2, 9, 1));
+        Twins.noIndex(c, "report by no such rule beyond 80", EIGHTY_REPORTS, x -> x.report(2, 1, 3));
+        Twins.notAllowed(c, "report by one who is banned beyond 80", EIGHTY_REPORTS, x -> x.report(0, 1, 1));
+        Twins.notAllowed(c, "report of an own post beyond 80", EIGHTY_REPORTS, x -> x.report(1, 1, 1));
+        Twins.notAllowed(c, "report again beyond 80", EIGHTY_REPORTS, x -> x.report(3, 1, 1));
+        Twins.notAllowed(c, "report of one removed beyond 80", EIGHTY_REPORTS, x -> x.report(2, 0, 1));
         noIndex("pressure on no such post", x -> x.pressure(9));
         noIndex("queueAt behind the last one", x -> x.queueAt(2));
     }
@@ -176,10 +192,10 @@ final class RefusalsTest {
     private void moderators() {
         noArgument("addModerator of no such marks", x -> x.addModerator(256, 1));
         noArgument("addModerator of no such limit", x -> x.addModerator(0, 0));
-        Twins.noState(c, "addModerator beyond 4", x -> fourModerators(x), x -> x.addModerator(0, 1));
-        Twins.noArgument(c, "addModerator of no such marks beyond 4", x -> fourModerators(x),
+        Twins.noState(c, "addModerator beyond 4", FOUR_MODERATORS, x -> x.addModerator(0, 1));
+        Twins.noArgument(c, "addModerator of no such marks beyond 4", FOUR_MODERATORS,
                 x -> x.addModerator(-1, 1));
-        Twins.noArgument(c, "addModerator of no such limit beyond 4", x -> fourModerators(x),
+        Twins.noArgument(c, "addModerator of no such limit beyond 4", FOUR_MODERATORS,
                 x -> x.addModerator(0, 10));
         noIndex("next of no such moderator", x -> x.next(3));
         noElement("next of one who may see none", x -> x.next(2));
@@ -203,16 +219,16 @@ final class RefusalsTest {
         notAllowed("decide on what is not in the queue", x -> x.decide(0, 8, 1));
         notAllowed("decide on what is not in the queue, by none", x -> x.decide(0, 8, -1));
         notAllowed("decide by precedent", x -> x.decide(0, 7, 1));
-        Twins.notAllowed(c, "decide at the limit", x -> atTheLimit(x), x -> x.decide(3, 1, 1));
+        Twins.notAllowed(c, "decide at the limit", AT_THE_LIMIT, x -> x.decide(3, 1, 1));
         noIndex("decide by no such moderator by a rule that does not bind", x -> x.decide(3, 1, 2));
         noIndex("decide by no such moderator on what is not in the queue", x -> x.decide(3, 8, 1));
         noIndex("decide by no such rule on what is not in the queue", x -> x.decide(0, 8, 3));
         noIndex("decide by no such rule on what may not be seen", x -> x.decide(2, 1, 3));
         noArgument("decide by a rule that does not bind on what may not be seen", x -> x.decide(2, 1, 2));
         noArgument("decide by a rule that does not bind on what is not in the queue", x -> x.decide(0, 8, 2));
-        Twins.noArgument(c, "decide by a rule that does not bind at the limit", x -> atTheLimit(x),
+        Twins.noArgument(c, "decide by a rule that does not bind at the limit", AT_THE_LIMIT,
                 x -> x.decide(3, 1, 2));
-        Twins.noIndex(c, "decide by no such rule at the limit", x -> atTheLimit(x), x -> x.decide(3, 1, 3));
+        Twins.noIndex(c, "decide by no such rule at the limit", AT_THE_LIMIT, x -> x.decide(3, 1, 3));
         noIndex("stands of no such decision", x -> x.stands(7));
         noIndex("reach of no such decision", x -> x.reach(7));
     }
@@ -231,18 +247,18 @@ final class RefusalsTest {
     }
 
     private void decisionsBeyondForty() {
-        Twins.noState(c, "decide beyond 40", x -> fortyDecisions(x), x -> x.decide(0, 1, 1));
-        Twins.noState(c, "decide by none beyond 40", x -> fortyDecisions(x), x -> x.decide(0, 1, -1));
-        Twins.noIndex(c, "decide by no such moderator beyond 40", x -> fortyDecisions(x), x -> x.decide(3, 1, 1));
-        Twins.noIndex(c, "decide on no such post beyond 40", x -> fortyDecisions(x), x -> x.decide(0, 50, 1));
-        Twins.noIndex(c, "decide by no such rule beyond 40", x -> fortyDecisions(x), x -> x.decide(0, 1, 3));
-        Twins.noArgument(c, "decide by a rule that does not bind beyond 40", x -> fortyDecisions(x),
+        Twins.noState(c, "decide beyond 40", FORTY_DECISIONS, x -> x.decide(0, 1, 1));
+        Twins.noState(c, "decide by none beyond 40", FORTY_DECISIONS, x -> x.decide(0, 1, -1));
+        Twins.noIndex(c, "decide by no such moderator beyond 40", FORTY_DECISIONS, x -> x.decide(3, 1, 1));
+        Twins.noIndex(c, "decide on no such post beyond 40", FORTY_DECISIONS, x -> x.decide(0, 50, 1));
+        Twins.noIndex(c, "decide by no such rule beyond 40", FORTY_DECISIONS, x -> x.decide(0, 1, 3));
+        Twins.noArgument(c, "decide by a rule that does not bind beyond 40", FORTY_DECISIONS,
                 x -> x.decide(0, 1, 2));
-        Twins.notAllowed(c, "decide on what may not be seen beyond 40", x -> fortyDecisions(x),
+        Twins.notAllowed(c, "decide on what may not be seen beyond 40", FORTY_DECISIONS,
                 x -> x.decide(2, 1, 1));
-        Twins.notAllowed(c, "decide on what is not in the queue beyond 40", x -> fortyDecisions(x),
+        Twins.notAllowed(c, "decide on what is not in the queue beyond 40", FORTY_DECISIONS,
                 x -> x.decide(0, 8, 1));
-        Twins.notAllowed(c, "decide by precedent beyond 40", x -> fortyDecisions(x), x -> x.decide(0, 7, 1));
+        Twins.notAllowed(c, "decide by precedent beyond 40", FORTY_DECISIONS, x -> x.decide(0, 7, 1));
     }
 
     private void ends() {
@@ -273,12 +289,12 @@ final class RefusalsTest {
     }
 
     private void appealsTooLate() {
-        Twins.noState(c, "appeal too late", x -> late(x), x -> x.appeal(6, 4));
-        Twins.noIndex(c, "appeal by no such account too late", x -> late(x), x -> x.appeal(6, 8));
-        Twins.notAllowed(c, "appeal against one taken back too late", x -> late(x), x -> x.appeal(2, 4));
-        Twins.notAllowed(c, "appeal against one by none too late", x -> late(x), x -> x.appeal(1, 4));
-        Twins.notAllowed(c, "appeal by another one too late", x -> late(x), x -> x.appeal(6, 1));
-        Twins.notAllowed(c, "appeal again too late", x -> late(x), x -> x.appeal(3, 4));
+        Twins.noState(c, "appeal too late", LATE, x -> x.appeal(6, 4));
+        Twins.noIndex(c, "appeal by no such account too late", LATE, x -> x.appeal(6, 8));
+        Twins.notAllowed(c, "appeal against one taken back too late", LATE, x -> x.appeal(2, 4));
+        Twins.notAllowed(c, "appeal against one by none too late", LATE, x -> x.appeal(1, 4));
+        Twins.notAllowed(c, "appeal by another one too late", LATE, x -> x.appeal(6, 1));
+        Twins.notAllowed(c, "appeal again too late", LATE, x -> x.appeal(3, 4));
     }
 
     private void hearings() {
@@ -307,9 +323,9 @@ final class RefusalsTest {
         notAllowed("jury without an appeal", x -> x.jury(6));
         notAllowed("jury of what was heard", x -> x.jury(5));
         notAllowed("jury again", x -> x.jury(4));
-        Twins.noElement(c, "jury of too few", x -> fewPersons(x), x -> x.jury(3));
-        Twins.notAllowed(c, "jury of too few without an appeal", x -> fewPersons(x), x -> x.jury(6));
-        Twins.notAllowed(c, "jury of too few again", x -> fewPersons(x), x -> x.jury(4));
+        Twins.noElement(c, "jury of too few", FEW_PERSONS, x -> x.jury(3));
+        Twins.notAllowed(c, "jury of too few without an appeal", FEW_PERSONS, x -> x.jury(6));
+        Twins.notAllowed(c, "jury of too few again", FEW_PERSONS, x -> x.jury(4));
         noIndex("jurorAt of no such decision", x -> x.jurorAt(7, 0));
         noArgument("jurorAt of no such index", x -> x.jurorAt(4, 3));
         noElement("jurorAt without a jury", x -> x.jurorAt(3, 0));
@@ -326,9 +342,9 @@ final class RefusalsTest {
         notAllowed("vote again, otherwise", x -> x.vote(4, 0, false));
         noIndex("vote of no such juror on no such decision", x -> x.vote(7, 3, true));
         noArgument("vote of no such juror without a jury", x -> x.vote(3, -1, true));
-        Twins.notAllowed(c, "vote when it was heard", x -> heardByJury(x), x -> x.vote(4, 1, false));
-        Twins.notAllowed(c, "jury when it was heard", x -> heardByJury(x), x -> x.jury(4));
-        Twins.noArgument(c, "vote of no such juror when it was heard", x -> heardByJury(x),
+        Twins.notAllowed(c, "vote when it was heard", HEARD_BY_JURY, x -> x.vote(4, 1, false));
+        Twins.notAllowed(c, "jury when it was heard", HEARD_BY_JURY, x -> x.jury(4));
+        Twins.noArgument(c, "vote of no such juror when it was heard", HEARD_BY_JURY,
                 x -> x.vote(4, 3, false));
     }
 
@@ -350,10 +366,10 @@ final class RefusalsTest {
         noIndex("order of no such post", x -> x.order(0, 9, 0));
         noArgument("order of no such land and post", x -> x.order(3, 9, 0));
         noArgument("order of no such days and post", x -> x.order(0, 9, 31));
-        Twins.noState(c, "order beyond 20", x -> twentyOrders(x), x -> x.order(0, 1, 0));
-        Twins.noArgument(c, "order of no such land beyond 20", x -> twentyOrders(x), x -> x.order(-1, 1, 0));
-        Twins.noArgument(c, "order of no such days beyond 20", x -> twentyOrders(x), x -> x.order(0, 1, -1));
-        Twins.noIndex(c, "order of no such post beyond 20", x -> twentyOrders(x), x -> x.order(0, 9, 0));
+        Twins.noState(c, "order beyond 20", TWENTY_ORDERS, x -> x.order(0, 1, 0));
+        Twins.noArgument(c, "order of no such land beyond 20", TWENTY_ORDERS, x -> x.order(-1, 1, 0));
+        Twins.noArgument(c, "order of no such days beyond 20", TWENTY_ORDERS, x -> x.order(0, 1, -1));
+        Twins.noIndex(c, "order of no such post beyond 20", TWENTY_ORDERS, x -> x.order(0, 9, 0));
         noIndex("obey of no such order", x -> x.obey(2));
         notAllowed("obey again", x -> x.obey(0));
     }
@@ -383,13 +399,13 @@ final class RefusalsTest {
         noArgument("reply of no such marks by one who is banned", x -> x.reply(0, 1, 256));
         noArgument("reply of no such marks to one removed", x -> x.reply(1, 0, -1));
         noArgument("reply of no such marks to one hidden", x -> x.reply(1, 2, 256));
-        Twins.noState(c, "reply beyond 50", x -> Houses.full(x), x -> x.reply(1, 1, 0));
-        Twins.noIndex(c, "reply by no such account beyond 50", x -> Houses.full(x), x -> x.reply(8, 1, 0));
-        Twins.noIndex(c, "reply to no such post beyond 50", x -> Houses.full(x), x -> x.reply(1, 50, 0));
-        Twins.noArgument(c, "reply of no such marks beyond 50", x -> Houses.full(x), x -> x.reply(1, 1, 256));
-        Twins.notAllowed(c, "reply by one who is banned beyond 50", x -> Houses.full(x), x -> x.reply(0, 1, 0));
-        Twins.notAllowed(c, "reply to one removed beyond 50", x -> Houses.full(x), x -> x.reply(1, 0, 0));
-        Twins.notAllowed(c, "reply to one hidden beyond 50", x -> Houses.full(x), x -> x.reply(1, 2, 0));
+        Twins.noState(c, "reply beyond 50", FULL, x -> x.reply(1, 1, 0));
+        Twins.noIndex(c, "reply by no such account beyond 50", FULL, x -> x.reply(8, 1, 0));
+        Twins.noIndex(c, "reply to no such post beyond 50", FULL, x -> x.reply(1, 50, 0));
+        Twins.noArgument(c, "reply of no such marks beyond 50", FULL, x -> x.reply(1, 1, 256));
+        Twins.notAllowed(c, "reply by one who is banned beyond 50", FULL, x -> x.reply(0, 1, 0));
+        Twins.notAllowed(c, "reply to one removed beyond 50", FULL, x -> x.reply(1, 0, 0));
+        Twins.notAllowed(c, "reply to one hidden beyond 50", FULL, x -> x.reply(1, 2, 0));
     }
 
     private static void bannedWithAnotherPost(ModHouse x) {
@@ -400,12 +416,12 @@ final class RefusalsTest {
     private void edits() {
         noIndex("edit of no such post", x -> x.edit(9, 0));
         noArgument("edit by no such marks", x -> x.edit(3, 256));
-        Twins.notAllowed(c, "edit by one who is banned", x -> bannedWithAnotherPost(x), x -> x.edit(2, 0));
+        Twins.notAllowed(c, "edit by one who is banned", BANNED_WITH_ANOTHER_POST, x -> x.edit(2, 0));
         notAllowed("edit of one with a report that waits", x -> x.edit(1, 0));
         notAllowed("edit of one with a report that waits, again decided", x -> x.edit(7, 0));
         notAllowed("edit of one on which a decision acts", x -> x.edit(8, 0));
         noIndex("edit of no such post by no such marks", x -> x.edit(9, 256));
-        Twins.noArgument(c, "edit by no such marks by one who is banned", x -> bannedWithAnotherPost(x),
+        Twins.noArgument(c, "edit by no such marks by one who is banned", BANNED_WITH_ANOTHER_POST,
                 x -> x.edit(2, 256));
         noArgument("edit by no such marks of one with a report that waits", x -> x.edit(1, -1));
         noArgument("edit by no such marks of one on which a decision acts", x -> x.edit(8, 256));
@@ -461,17 +477,17 @@ final class RefusalsTest {
         notAllowed("spread of one taken back", x -> x.spread(2));
         notAllowed("spread of one overturned", x -> x.spread(5));
         notAllowed("spread again", x -> x.spread(6));
-        Twins.notAllowed(c, "spread again, with strikes", x -> spreadWithStrikes(x), x -> x.spread(0));
+        Twins.notAllowed(c, "spread again, with strikes", SPREAD_WITH_STRIKES, x -> x.spread(0));
         noIndex("regime of no such rule", x -> x.regime(3, 'r', 0, 0));
         noArgument("regime of no such act", x -> x.regime(0, 'x', 0, 0));
         noArgument("regime from below 0", x -> x.regime(0, 'r', -1, 0));
         noArgument("regime till ahead of its first day", x -> x.regime(0, 'r', 1, 0));
         noIndex("regime of no such rule and act", x -> x.regime(3, 'x', 0, 0));
         noIndex("regime of no such rule and days", x -> x.regime(3, 'r', 1, 0));
-        Twins.noState(c, "regime beyond 6", x -> sixRegimes(x), x -> x.regime(1, 'r', 0, 0));
-        Twins.noIndex(c, "regime of no such rule beyond 6", x -> sixRegimes(x), x -> x.regime(3, 'r', 0, 0));
-        Twins.noArgument(c, "regime of no such act beyond 6", x -> sixRegimes(x), x -> x.regime(1, 'x', 0, 0));
-        Twins.noArgument(c, "regime of no such days beyond 6", x -> sixRegimes(x), x -> x.regime(1, 'r', 1, 0));
+        Twins.noState(c, "regime beyond 6", SIX_REGIMES, x -> x.regime(1, 'r', 0, 0));
+        Twins.noIndex(c, "regime of no such rule beyond 6", SIX_REGIMES, x -> x.regime(3, 'r', 0, 0));
+        Twins.noArgument(c, "regime of no such act beyond 6", SIX_REGIMES, x -> x.regime(1, 'x', 0, 0));
+        Twins.noArgument(c, "regime of no such days beyond 6", SIX_REGIMES, x -> x.regime(1, 'r', 1, 0));
     }
 
     private static void fourBuyers(ModHouse x) {
@@ -483,8 +499,8 @@ final class RefusalsTest {
 
     private void buyersAndFeed() {
         noArgument("addBuyer of no such marks", x -> x.addBuyer(256));
-        Twins.noState(c, "addBuyer beyond 4", x -> fourBuyers(x), x -> x.addBuyer(0));
-        Twins.noArgument(c, "addBuyer of no such marks beyond 4", x -> fourBuyers(x), x -> x.addBuyer(-1));
+        Twins.noState(c, "addBuyer beyond 4", FOUR_BUYERS, x -> x.addBuyer(0));
+        Twins.noArgument(c, "addBuyer of no such marks beyond 4", FOUR_BUYERS, x -> x.addBuyer(-1));
         noIndex("beside of no such post", x -> x.beside(9));
         noIndex("seen of no such post", x -> x.seen(9));
         noIndex("owed of no such post", x -> x.owed(9));

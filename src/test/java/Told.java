@@ -1,40 +1,57 @@
 import java.util.ArrayList;
 import java.util.List;
-import java.util.function.Supplier;
+import java.util.NoSuchElementException;
+import java.util.function.Function;
 
 /**
- * All that can be told of a house: first by the calls that only look, then by calls that change it, whose answers
- * also tell what no look does (the lots, the limits, what is counted), then by looks again.
+ * All that can be told of a house: by the calls that only look, and by calls that use it on, whose answers also tell
+ * what no look does (the lots, the limits, what is counted). No house gets more than the 512 calls for which it is
+ * promised to answer: it is made anew ahead of that.
  */
 final class Told {
-    private final ModHouse x;
+    /** Making a house and using it on leaves room for so many. */
+    private static final int LOOKS_AT_ONCE = 200;
+    private static final int FEW = 9;
+
+    private record Question(String what, Function<ModHouse, Object> call) {
+    }
+
+    private final Twins.Calls making;
     private final List<String> lines = new ArrayList<>();
+    private List<Question> asked = new ArrayList<>();
     private final int accounts;
     private final int rules;
     private final int moderators;
     private final int posts;
     private final int decisions;
-    private final int orders;
 
-    private Told(ModHouse x) {
-        this.x = x;
+    private Told(Twins.Calls making) {
+        this.making = making;
+        ModHouse x = Twins.made(making);
         accounts = count(i -> x.weight(i));
         rules = count(i -> x.numberOf(i, 'd'));
         posts = count(i -> x.stateOf(i));
         decisions = count(i -> x.stands(i));
-        moderators = count(i -> isModerator(i));
-        orders = 20;
+        moderators = count(i -> isModerator(x, i));
     }
 
-    private interface Look {
-        Object at(int i);
+    /** What a house tells that is made so. */
+    static List<String> of(Twins.Calls making) {
+        Told told = new Told(making);
+        List<Question> looks = told.looks();
+        told.look(List.of(), looks);
+        told.useAndLook(told.ends(), looks);
+        told.useAndLook(told.starts(), looks);
+        told.useAndLook(told.goesOn(), looks);
+        told.use(told.ages());
+        return told.lines;
     }
 
     /** How many things are numbered; a call beyond them throws IndexOutOfBoundsException. */
-    private static int count(Look look) {
+    private static int count(Function<Integer, Object> call) {
         for (int i = 0; i < 100; i++) {
             try {
-                look.at(i);
+                call.apply(i);
             } catch (IndexOutOfBoundsException e) {
                 return i;
             }
@@ -42,69 +59,68 @@ final class Told {
         return 100;
     }
 
-    private Object isModerator(int moderator) {
+    private static Object isModerator(ModHouse x, int moderator) {
         try {
             return x.next(moderator);
-        } catch (java.util.NoSuchElementException e) {
+        } catch (NoSuchElementException e) {
             return -1;
         }
     }
 
-    /** What a house tells as it is used on; it is used up by that. */
-    static List<String> of(ModHouse x) {
-        Told told = new Told(x);
-        told.looks();
-        told.ends();
-        told.starts();
-        told.goesOn();
-        told.looks();
-        return told.lines;
-    }
-
-    /** What a house tells as days pass, behind which nothing counts that ages; it is used up by that. */
-    static List<String> ofDays(ModHouse x) {
-        Told told = new Told(x);
-        for (int i = 0; i < 92; i++) {
-            told.ages(i);
-        }
-        return told.lines;
-    }
-
-    /** The first line in which what two houses tell differs; "none" if they are alike. */
-    static String difference(List<String> ones, List<String> others) {
-        for (int i = 0; i < ones.size() && i < others.size(); i++) {
-            if (!ones.get(i).equals(others.get(i))) {
-                return ones.get(i) + " instead of " + others.get(i);
-            }
-        }
-        return ones.size() == others.size() ? "none" : "one tells more";
-    }
-
-    private void tell(String what, Supplier<Object> call) {
-        String answer;
+    private static String answer(ModHouse x, Question question) {
         try {
-            answer = String.valueOf(call.get());
+            return question.what + ": " + question.call.apply(x);
         } catch (RuntimeException e) {
-            answer = "throws " + Check.nameOf(e);
+            return question.what + ": throws " + Check.nameOf(e);
         }
-        lines.add(what + ": " + answer);
     }
 
-    private void looks() {
-        tell("queued", () -> x.queued());
-        tell("late", () -> x.late());
-        tell("standShare", () -> x.standShare());
-        tell("meanWeight", () -> x.meanWeight());
-        tell("isSound", () -> x.isSound());
+    private void use(List<Question> calls) {
+        ModHouse x = Twins.made(making);
+        for (Question call : calls) {
+            lines.add(answer(x, call));
+        }
+    }
+
+    private void useAndLook(List<Question> calls, List<Question> looks) {
+        use(calls);
+        look(calls, looks);
+    }
+
+    /** Looks at houses that were used on so. */
+    private void look(List<Question> calls, List<Question> looks) {
+        ModHouse x = null;
+        for (int i = 0; i < looks.size(); i++) {
+            if (i % LOOKS_AT_ONCE == 0) {
+                x = Twins.made(making);
+                for (Question call : calls) {
+                    answer(x, call);
+                }
+            }
+            lines.add(answer(x, looks.get(i)));
+        }
+    }
+
+    private void ask(String what, Function<ModHouse, Object> call) {
+        asked.add(new Question(what, call));
+    }
+
+    private List<Question> done() {
+        List<Question> all = asked;
+        asked = new ArrayList<>();
+        return all;
+    }
+
+    private List<Question> looks() {
+        ask("late", x -> x.late());
+        ask("standShare", x -> x.standShare());
+        ask("meanWeight", x -> x.meanWeight());
+        ask("isSound", x -> x.isSound());
         for (int i = 0; i < accounts; i++) {
             int account = i;
-            tell("weight " + i, () -> x.weight(account));
-            tell("strikes " + i, () -> x.strikes(account));
-            tell("isBanned " + i, () -> x.isBanned(account));
-        }
-        for (int i = 0; i < moderators; i++) {
-            int moderator = i;
-            tell("next " + i, () -> x.next(moderator));
+            ask("weight " + i, x -> x.weight(account));
+            ask("strikes " + i, x -> x.strikes(account));
+            ask("isBanned " + i, x -> x.isBanned(account));
         }
         for (int i = 0; i < posts; i++) {
             looksAtPost(i);
@@ -114,144 +130,155 @@ final class Told {
         }
         for (int i = 0; i < decisions; i++) {
             int decision = i;
-            tell("stands " + i, () -> x.stands(decision));
-            tell("reach " + i, () -> x.reach(decision));
+            ask("stands " + i, x -> x.stands(decision));
+            ask("reach " + i, x -> x.reach(decision));
             for (int j = 0; j < 3; j++) {
                 int index = j;
-                tell("jurorAt " + i + " " + j, () -> x.jurorAt(decision, index));
+                ask("jurorAt " + i + " " + j, x -> x.jurorAt(decision, index));
             }
         }
         looksAtRanks();
+        return done();
     }
 
     private void looksAtPost(int post) {
-        tell("stateOf " + post, () -> x.stateOf(post));
-        tell("isHidden " + post, () -> x.isHidden(post));
-        tell("pressure " + post, () -> x.pressure(post));
-        tell("alike " + post, () -> x.alike(post));
-        tell("beside " + post, () -> x.beside(post));
-        tell("lost " + post, () -> x.lost(post));
-        tell("seen " + post, () -> x.seen(post));
-        tell("owed " + post, () -> x.owed(post));
-        tell("heat " + post, () -> x.heat(post));
+        ask("stateOf " + post, x -> x.stateOf(post));
+        ask("isHidden " + post, x -> x.isHidden(post));
+        ask("pressure " + post, x -> x.pressure(post));
+        ask("alike " + post, x -> x.alike(post));
+        ask("beside " + post, x -> x.beside(post));
+        ask("lost " + post, x -> x.lost(post));
+        ask("seen " + post, x -> x.seen(post));
+        ask("owed " + post, x -> x.owed(post));
+        ask("heat " + post, x -> x.heat(post));
     }
 
     private void looksAtRule(int rule) {
-        tell("machineWeight " + rule, () -> x.machineWeight(rule));
+        ask("machineWeight " + rule, x -> x.machineWeight(rule));
         String letters = "dsobarwmt";
         for (int i = 0; i < letters.length(); i++) {
             char what = letters.charAt(i);
-            tell("numberOf " + rule + " " + what, () -> x.numberOf(rule, what));
+            ask("numberOf " + rule + " " + what, x -> x.numberOf(rule, what));
         }
         for (int i = 0; i < posts; i++) {
             int post = i;
-            tell("breaks " + i + " " + rule, () -> x.breaks(post, rule));
-            tell("score " + rule + " " + i, () -> x.score(rule, post));
+            ask("breaks " + i + " " + rule, x -> x.breaks(post, rule));
+            ask("score " + rule + " " + i, x -> x.score(rule, post));
         }
     }
 
     private void looksAtRanks() {
-        int queued = x.queued();
-        for (int i = 0; i < queued; i++) {
-            int place = i;
-            tell("queueAt " + i, () -> x.queueAt(place));
+        ask("queued", x -> x.queued());
+        for (int i = 0; i < moderators; i++) {
+            int moderator = i;
+            ask("next " + i, x -> x.next(moderator));
         }
         for (int i = 0; i < 3; i++) {
             int land = i;
-            tell("feedSize " + i, () -> x.feedSize(land));
-            int size = x.feedSize(land);
-            for (int j = 0; j < size; j++) {
-                int place = j;
-                tell("feedAt " + i + " " + j, () -> x.feedAt(land, place));
-            }
+            ask("feedSize " + i, x -> x.feedSize(land));
+        }
+        for (int i = 0; i <= posts; i++) {
+            int place = i;
+            ask("queueAt " + i, x -> x.queueAt(place));
+            ask("feedAt " + i, x -> x.feedAt(place % 3, place));
+            ask("feedAt " + i + " of the next land", x -> x.feedAt((place + 1) % 3, place));
         }
     }
 
-    /** What was begun ends: appeals, orders, the queue, decisions. */
-    private void ends() {
-        for (int i = 0; i < decisions; i++) {
+    /** What was begun ends: appeals, orders, the queue. */
+    private List<Question> ends() {
+        for (int i = 0; i < decisions && i < FEW; i++) {
             int decision = i;
-            tell("jury " + i, () -> x.jury(decision));
+            ask("jury " + i, x -> x.jury(decision));
             for (int j = 0; j < 3; j++) {
                 int index = j;
-                tell("vote " + i + " " + j, () -> x.vote(decision, index, index > 0));
+                ask("vote " + i + " " + j, x -> x.vote(decision, index, index > 0));
             }
-            tell("hear " + i, () -> x.hear(decision, 0, true));
-            tell("spread " + i, () -> x.spread(decision));
+            ask("hear " + i, x -> x.hear(decision, 0, true));
+            ask("spread " + i, x -> x.spread(decision));
         }
-        for (int i = 0; i < orders; i++) {
+        for (int i = 0; i < 20; i++) {
             int order = i;
-            tell("obey " + i, () -> x.obey(order));
+            ask("obey " + i, x -> x.obey(order));
         }
         for (int i = 0; i < moderators; i++) {
             int moderator = i;
             for (int j = 0; j < 10; j++) {
-                tell("decide by " + i, () -> x.decide(moderator, x.next(moderator), -1));
+                ask("decide by " + i, x -> x.decide(moderator, x.next(moderator), -1));
             }
         }
+        return done();
     }
 
-    /** What can be had in a number only is asked for, and what is told with an answer of what was ahead of it. */
-    private void starts() {
+    /** Whatever can be had in a number only is asked for, and what is answered by what was ahead of it. */
+    private List<Question> starts() {
         for (int i = 0; i < accounts; i++) {
             int account = i;
-            tell("post " + i, () -> x.post(account, 1));
-            for (int j = 0; j < rules; j++) {
-                int rule = j;
-                tell("breaks of it " + j, () -> x.breaks(posts, rule));
-            }
+            ask("post " + i, x -> x.post(account, 1));
         }
-        tell("addAccount", () -> x.addAccount());
-        tell("addRule", () -> x.addRule(1, 0, 'l', 0));
-        tell("addModerator", () -> x.addModerator(255, 9));
-        tell("addBuyer", () -> x.addBuyer(0));
-        tell("order", () -> x.order(0, 0, 0));
-        tell("setLikeness", () -> x.setLikeness(3));
         for (int i = 0; i < rules; i++) {
             int rule = i;
-            tell("setThreshold " + i, () -> x.setThreshold(rule, -72));
+            ask("breaks of it " + i, x -> x.breaks(posts, rule));
+        }
+        ask("addAccount", x -> x.addAccount());
+        ask("addRule", x -> x.addRule(1, 0, 'l', 0));
+        ask("addModerator", x -> x.addModerator(255, 9));
+        ask("addBuyer", x -> x.addBuyer(0));
+        ask("order", x -> x.order(0, 0, 0));
+        ask("setLikeness", x -> x.setLikeness(3));
+        for (int i = 0; i < rules; i++) {
+            int rule = i;
+            ask("setThreshold " + i, x -> x.setThreshold(rule, -72));
             for (int j = 0; j < 8; j++) {
                 int mark = j;
-                tell("setScore " + i + " " + j, () -> x.setScore(rule, mark, 0));
+                ask("setScore " + i + " " + j, x -> x.setScore(rule, mark, 0));
             }
-            tell("change " + i, () -> x.change(rule, 1, 0, 'n', 1));
-            tell("regime " + i, () -> x.regime(rule, 'n', 0, 99));
+            ask("change " + i, x -> x.change(rule, 1, 0, 'n', 1));
+            ask("regime " + i, x -> x.regime(rule, 'n', 0, 99));
         }
+        return done();
     }
 
-    private void goesOn() {
-        for (int i = 0; i < posts; i++) {
+    private List<Question> goesOn() {
+        for (int i = 0; i < posts && i < FEW; i++) {
             int post = i;
-            tell("edit " + i, () -> x.edit(post, 1));
-            tell("view " + i, () -> x.view(post, post % 3, 7));
-            tell("copy " + i, () -> x.copy(accounts - 1, post));
-            tell("report " + i, () -> x.report(accounts - 1, post, 0));
+            ask("edit " + i, x -> x.edit(post, 1));
+            ask("view " + i, x -> x.view(post, post % 3, 7));
+            ask("copy " + i, x -> x.copy(accounts - 1, post));
+            ask("report " + i, x -> x.report(accounts - 1, post, 0));
         }
-        for (int i = 0; i < decisions; i++) {
+        for (int i = 0; i < decisions && i < FEW; i++) {
             int decision = i;
             for (int j = 0; j < accounts; j++) {
                 int account = j;
-                tell("appeal " + i + " " + j, () -> x.appeal(decision, account));
+                ask("appeal " + i + " " + j, x -> x.appeal(decision, account));
             }
-            tell("takeBack " + i, () -> x.takeBack(decision));
+            ask("takeBack " + i, x -> x.takeBack(decision));
         }
-        tell("pass", () -> x.pass(1));
         for (int i = 1; i < accounts; i++) {
             int account = i;
-            tell("join " + i, () -> x.join(account, account - 1));
+            ask("join " + i, x -> x.join(account, account - 1));
         }
+        return done();
     }
 
-    private void ages(int days) {
-        for (int i = 0; i < accounts; i++) {
-            int account = i;
-            tell("strikes " + i + " after " + days, () -> x.strikes(account));
+    /** Days pass until nothing counts that ages. */
+    private List<Question> ages() {
+        int[] passes = {1, 1, 1, 1, 1, 1, 1, 1, 5, 1, 14, 1, 1, 59, 1, 1, 1, 60};
+        int day = 0;
+        for (int days : passes) {
+            for (int i = 0; i < accounts; i++) {
+                int account = i;
+                ask("strikes " + i + " after " + day, x -> x.strikes(account));
+            }
+            for (int i = 0; i < posts && i < FEW && day < 8; i++) {
+                int post = i;
+                ask("heat " + i + " after " + day, x -> x.heat(post));
+            }
+            ask("late after " + day, x -> x.late());
+            ask("pass", x -> x.pass(days));
+            day += days;
         }
-        for (int i = 0; i < posts && days < 9; i++) {
-            int post = i;
-            tell("heat " + i + " after " + days, () -> x.heat(post));
-        }
-        tell("late after " + days, () -> x.late());
-        tell("pass", () -> x.pass(1));
+        return done();
     }
 }
