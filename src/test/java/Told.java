@@ -12,6 +12,7 @@ final class Told {
     /** Making a house and using it on leaves room for so many. */
     private static final int LOOKS_AT_ONCE = 200;
     private static final int FEW = 9;
+    private static final int MANY = 220;
 
     private record Question(String what, Function<ModHouse, Object> call) {
     }
@@ -43,6 +44,8 @@ final class Told {
         told.useAndLook(told.ends(), looks);
         told.useAndLook(told.starts(), looks);
         told.useAndLook(told.goesOn(), looks);
+        told.use(told.builds());
+        told.use(told.fills());
         told.use(told.ages());
         return told.lines;
     }
@@ -258,6 +261,48 @@ final class Told {
         for (int i = 1; i < accounts; i++) {
             int account = i;
             ask("join " + i, x -> x.join(account, account - 1));
+        }
+        return done();
+    }
+
+    /** What there may be none of yet is made, up to a jury, whose lots tell how many were drawn ahead of it. */
+    private List<Question> builds() {
+        int author = Math.min(accounts, 11);
+        int rule = Math.min(rules, 5);
+        int moderator = Math.min(moderators, 3);
+        for (int i = 0; i < 5; i++) {
+            ask("addAccount", x -> x.addAccount());
+        }
+        ask("addModerator", x -> x.addModerator(255, 9));
+        ask("addRule", x -> x.addRule(1, 0, 'n', 0));
+        ask("post", x -> x.post(author, 1));
+        ask("report", x -> x.report(Math.min(accounts + 1, 11), posts, rule));
+        ask("decide", x -> x.decide(moderator, posts, rule));
+        ask("spread", x -> x.spread(decisions));
+        ask("appeal", x -> x.appeal(decisions, author));
+        for (int i = 0; i <= decisions && i <= FEW; i++) {
+            int decision = i;
+            ask("spread " + i, x -> x.spread(decision));
+            ask("jury " + i, x -> x.jury(decision));
+            ask("jurorAt " + i, x -> x.jurorAt(decision, 2));
+        }
+        for (int i = 0; i < 7; i++) {
+            ask("regime", x -> x.regime(0, 'l', 0, 0));
+            ask("addBuyer", x -> x.addBuyer(0));
+            ask("setLikeness", x -> x.setLikeness(1));
+        }
+        return done();
+    }
+
+    /** Persons report until no report is taken. */
+    private List<Question> fills() {
+        for (int i = 0; i < posts && asked.size() < MANY; i++) {
+            for (int j = 0; j < accounts * rules && asked.size() < MANY; j++) {
+                int post = i;
+                int account = j / rules;
+                int rule = j % rules;
+                ask("report " + j + " of " + i, x -> x.report(account, post, rule));
+            }
         }
         return done();
     }
