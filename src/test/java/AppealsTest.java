@@ -155,6 +155,9 @@ final class AppealsTest {
         c.is("jury: 1914720637 modulo 5 is 2 of 2 3 4 5 6", x.jury(e), 4);
         x.takeBack(e);
         c.is("jurorAt when it was taken back", x.jurorAt(e, 0), 4);
+        x.join(5, 4);
+        c.is("jurorAt as it was drawn, by a person who is one with account 4", x.jurorAt(d, 1), 5);
+        c.is("vote of such a juror", x.vote(d, 1, true), '?');
     }
 
     private static void jurorsWhoCanNotBeDrawn(Check c) {
