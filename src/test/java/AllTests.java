@@ -5,6 +5,7 @@ final class AllTests {
 
     public static void main(String[] arguments) {
         Check c = new Check();
+        UseTest.run(c);
         FaceTest.run(c);
         LanguageTest.run(c);
         PeopleTest.run(c);
